@@ -310,7 +310,8 @@ public final class TrialGarden {
         static final int RESULT = 29;
         static final int SIZE = 30;
         static final int QUOTED = 21;
-        static final String QUOTED_WORDS = "class above int kept member in needs gives throws when only pure let if else while return throw old result size ";
+        static final String QUOTED_HEADS = "class above int kept member in needs gives throws when only pure ";
+        static final String QUOTED_REST = "let if else while return throw old result size ";
         static final int TO = 200;
         static final int SAME = 201;
         static final int OTHER = 202;
@@ -337,10 +338,16 @@ public final class TrialGarden {
             quoted = new long[QUOTED];
             tape = new byte[0];
             faultPlace = NONE;
-            int n = 0;
+            int n = packWords(QUOTED_HEADS, 0);
+            packWords(QUOTED_REST, n);
+        }
+
+        /** Packs the quoted words of a text, each with a blank behind, from place n on: the place behind them. */
+        private int packWords(String words, int from) {
+            int n = from;
             long word = 0;
-            for (int i = 0; i < QUOTED_WORDS.length() && n < QUOTED; i++) {
-                int code = codeOf(QUOTED_WORDS.charAt(i));
+            for (int i = 0; i < words.length() && n < QUOTED; i++) {
+                int code = codeOf(words.charAt(i));
                 if (code > 0) {
                     word = word * BASE + code;
                 } else {
@@ -349,6 +356,7 @@ public final class TrialGarden {
                     word = 0;
                 }
             }
+            return n;
         }
 
         /** A WORD's sign as a digit from 1 on, so that twelve of them fit in a long; 0 for all other signs. */
@@ -530,9 +538,12 @@ public final class TrialGarden {
     private static final class Text {
         static final int CLASSES = 8;
         static final int TELLINGS = 96;
-        static final int CODE = 4000;
-        static final int MARKS = 900;
-        static final int STATEMENTS = 1200;
+        /** No TOKEN makes more than three codes with the next one: 1200 of them stay below this. */
+        static final int CODE = 2000;
+        /** A mark has three TOKENS at least, but for one pure of each member. */
+        static final int MARKS = 500;
+        /** A st has three TOKENS at least. */
+        static final int STATEMENTS = 420;
 
         static final int NEEDS = 1;
         static final int GIVES = 2;
@@ -1193,7 +1204,8 @@ public final class TrialGarden {
             switch (kind) {
                 case Tokens.OR: return 1;
                 case Tokens.AND: return 2;
-                case Tokens.SAME: case Tokens.OTHER: case Tokens.AT_MOST: case Tokens.AT_LEAST: case '<': case '>': return 3;
+                case Tokens.SAME: case Tokens.OTHER: return 3;
+                case Tokens.AT_MOST: case Tokens.AT_LEAST: case '<': case '>': return 3;
                 case '+': case '-': return 4;
                 case '*': case '/': case '%': return 5;
                 default: return 0;
@@ -1618,7 +1630,9 @@ public final class TrialGarden {
                     readAsked(true);
                     break;
                 case Tokens.THROWS:
-                    readThrows();
+                    if (readThrownWord()) {
+                        readAsked(false);
+                    }
                     break;
                 case Tokens.ONLY:
                     readOnly();
@@ -1631,17 +1645,18 @@ public final class TrialGarden {
             tokens.take(';');
         }
 
-        private void readThrows() {
+        /** Reads the WORD of a throws: whether a when with its ex comes behind. */
+        private boolean readThrownWord() {
             int mark = text.addMark(Text.THROWS, scope.toyNumber, tokens.place());
             text.markWord[mark] = tokens.value();
             tokens.take(Tokens.NAME);
-            if (tokens.kind() == Tokens.WHEN) {
-                tokens.next();
-                text.markPlace[mark] = tokens.place();
-                readAsked(false);
-            } else {
+            if (tokens.kind() != Tokens.WHEN) {
                 text.markStart[mark] = NONE;
+                return false;
             }
+            tokens.next();
+            text.markPlace[mark] = tokens.place();
+            return true;
         }
 
         private void readOnly() {
@@ -1897,8 +1912,8 @@ public final class TrialGarden {
         static final int NESTED = 20;
         static final int SLOTS = 11;
         static final int STACK = 700;
-        /** Far above what 300 STEPS can take: no code is longer than 4000. */
-        static final int TURNS = 1500000;
+        /** Far above what 300 STEPS can take: between two of them no code is worked out twice. */
+        static final int TURNS = 1000000;
 
         static final int GOING = 0;
         static final int GAVE = 1;
@@ -2357,7 +2372,8 @@ public final class TrialGarden {
                 if (from.member[i] == NONE) {
                     addMake(from.argument[i][0]);
                 } else {
-                    addCall(o > gone ? o - 1 : o, from.member[i], from.argument[i][0], from.argument[i][1], from.argument[i][2]);
+                    int[] given = from.argument[i];
+                    addCall(o > gone ? o - 1 : o, from.member[i], given[0], given[1], given[2]);
                 }
             }
             return length > 0;
@@ -2630,7 +2646,8 @@ public final class TrialGarden {
                 boolean alike = spareRow.becomeLesser(text, row, number);
                 if (alike) {
                     runThrough(spareRow, spareRun);
-                    alike = spareRun.verdict == latest.verdict && spareRun.brokenPlace(text) == latest.brokenPlace(text);
+                    alike = spareRun.verdict == latest.verdict
+                        && spareRun.brokenPlace(text) == latest.brokenPlace(text);
                 }
                 number++;
                 if (alike) {
