@@ -1052,7 +1052,6 @@ public final class TrialGarden {
             }
             push(kind, place, scope.toy.spanOf(field));
             open++;
-            wanted = true;
             tokens.next();
         }
 

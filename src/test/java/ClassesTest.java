@@ -85,6 +85,12 @@ public final class ClassesTest {
         check.is("none since the new text", g.member(0, 0, 3), 0);
         g.all(0, 2);
         check.is("by all()", g.member(0, 0, 3), 4);
+        g = check.garden("class a { member f() { return 1; } member g() { let i = 0; while i < 3 { i = i + 1; } return i; } }");
+        g.make(0);
+        g.call(0, 1, 0, 0, 0);
+        g.run();
+        check.is("the tests of a while begin no st of another member", g.member(0, 0, 3), 0);
+        check.is("its own", g.member(0, 1, 3), 4);
         // Of a condition, and of what is beside
         g = check.garden("class a { member p() pure; { return 1; } member q() gives p(); { } } class b { member q() { return 0; } }");
         g.model(0, 1);

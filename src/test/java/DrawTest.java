@@ -67,8 +67,8 @@ public final class DrawTest {
     }
 
     private static void drawnRows() {
-        String text = "class z { } class a { member m() { } member n(p in 2 .. 9, q in -9 .. -2) { } member o(p in -999999999 .. 999999999, q in 5 .. 5, r in -3 .. 3) { } }";
-        int[][] members = {{}, {2, 9, -9, -2}, {-999999999, 999999999, 5, 5, -3, 3}};
+        String text = "class z { } class a { member m() { } member n(p in 2 .. 9, q in -9 .. -2) { } member o(p in -999999999 .. 999999999, q in 5 .. 5, r in -3 .. 3) { } member e(p in -3 .. 0, q in 0 .. 3, r in -1 .. -1) { } }";
+        int[][] members = {{}, {2, 9, -9, -2}, {-999999999, 999999999, 5, 5, -3, 3}, {-3, 0, 0, 3, -1, -1}};
         TrialGarden g = check.garden(text);
         int[] seeds = {0, 1, -1, 12345, Integer.MAX_VALUE, Integer.MIN_VALUE, 777777777};
         for (int seed : seeds) {

@@ -35,6 +35,10 @@ public final class FaultTest {
         return part.repeat(Math.max(n, 0));
     }
 
+    private static String balanced(int n, String part) {
+        return n == 1 ? part : "(" + balanced(n / 2, part) + " + " + balanced(n / 2, part) + ")";
+    }
+
     private static void inMember(int kind, String st) {
         fault(kind, IN_B + "member k(z in -1 .. 1) { " + st + " } }");
     }
@@ -68,6 +72,9 @@ public final class FaultTest {
         fault(1, "class a { int x; member m() throws b when ^old(x); { } }");
         fault(1, "class a { int x; member m() needs ^result; { } }");
         fault(1, "class a { member m() { return ^result; } }");
+        fault(1, "class a { member m() gives result; { return ^result; } }");
+        fault(1, "class a { int x; member m() gives old(x); needs ^old(x); { } }");
+        fault(1, "class a { int x; member m() gives old(x); { } member n() throws b when ^result; { } }");
         fault(1, "class a { int x; member m() gives old(^5); { } }");
         fault(1, "class a { int x; member m() gives old(x ^+ 1); { } }");
         fault(1, "class a { int r[2]; member m() gives old(r[0] ^+ 1); { } }");
@@ -219,6 +226,11 @@ public final class FaultTest {
         inMember(4, "return " + times(40, "(") + "m^()" + times(40, ")") + ";");
         inMember(0, "return " + times(39, "(") + "m()" + times(39, ")") + " + " + times(39, "(") + "r[1]" + times(39, ")") + ";");
         inMember(0, "p(1, " + times(40, "(") + "1" + times(40, ")") + ");");
+        // What is closed is open no more: 64 of each, in an ex of HEIGHT 9 at most.
+        for (String closed : new String[] {"r[0]", "m()", "p(1, 1)", "-1", "!x", "(1)", "size(r)", "above.p(1, 1)", "r[-1]", "p(r[0], -m())"}) {
+            inMember(0, "return " + balanced(64, closed) + ";");
+        }
+        fine("class a { int x; int r[3]; member m() gives " + balanced(64, "old(r[0])") + "; gives " + balanced(64, "old(x)") + "; { } }");
         inMember(0, "r[" + times(40, "(") + "1" + times(40, ")") + "] = 1;");
     }
 

@@ -7,6 +7,7 @@ public final class RunningTest {
         rows();
         statements();
         members();
+        argumentsWithin();
         steps();
         nesting();
         thrown();
@@ -81,6 +82,10 @@ public final class RunningTest {
         gives("x + yes() * x", 3 + 4);
         gives("yes() + x", 5);
         gives("0 && 1 / 0", 0);
+        gives("5 - (0 && 1)", 5);
+        gives("5 - (1 || 0)", 4);
+        gives("5 - (2 && 3)", 4);
+        gives("5 - (0 || 0)", 5);
     }
 
     private static void rows() {
@@ -120,7 +125,7 @@ public final class RunningTest {
         TrialGarden g = check.garden("class a { int x; member f(p in 0 .. 9) { p = p + 1; return p * 10; } member g(p in 0 .. 9, q in 0 .. 9) { let s = f(p) + f(q); return s + p + q; } "
             + "member h() { return 1; } member k() { return h() * 100; } member top() { return 7; } } "
             + "class b above a { member h() { return above.h() + 1; } member top() { return above.top() + 10; } } "
-            + "class c above b { member h() { return above.h() + 1; } member l() { return above.k() + h(); } member only_c() { f(1); return g(f(0), above.f(1)); } }");
+            + "class c above b { member h() { return above.h() + 1; } member l() { return above.k() + h(); } }");
         g.make(0);
         g.call(0, 1, 2, 4, 0);
         g.call(0, 3, 0, 0, 0);
@@ -130,7 +135,6 @@ public final class RunningTest {
         g.call(2, 3, 0, 0, 0);
         g.call(2, 5, 0, 0, 0);
         g.call(2, 4, 0, 0, 0);
-        g.call(2, 6, 0, 0, 0);
         check.is("run", g.run(), 0);
         check.is("arguments are the caller's own", g.told(1, 5), 30 + 50 + 6);
         check.is("a's own", g.told(2, 5), 100);
@@ -138,7 +142,28 @@ public final class RunningTest {
         check.is("twice", g.told(6, 5), 300);
         check.is("above. is static, what it calls is not", g.told(7, 5), 303);
         check.is("a member of above two up", g.told(8, 5), 17);
-        check.is("arguments of calls in calls", g.told(9, 5), (10 + 1) * 10 + (20 + 1) * 10 + 10 + 20);
+        g = check.garden("class a { int x; int y; int z; member one() { x = x + 1; } member two(p in 0 .. 9) { y = y + p; } member three(p in 0 .. 9, q in 0 .. 9) { z = z + 10 * p + q; } member all_of() { two(3); one(); three(4, 5); one(); two(1); } } "
+            + "class b above a { member one() { x = x + 100; } member two(p in 0 .. 9) { above.three(1, 2); above.two(p); above.one(); one(); } }");
+        g.make(0);
+        g.call(0, 3, 0, 0, 0);
+        g.make(1);
+        g.call(1, 1, 7, 0, 0);
+        check.is("calls that are st", g.run(), 0);
+        long[][] due = {{2, 4, 45}, {101, 7, 12}};
+        for (int o = 0; o < 2; o++) {
+            for (int k = 0; k < 3; k++) {
+                check.is("cell(" + o + ", " + k + ")", g.cell(o, k), due[o][k]);
+            }
+        }
+    }
+
+    private static void argumentsWithin() {
+        TrialGarden g = check.garden("class a { int x; member f(p in 0 .. 9) { p = p + 1; return p * 10; } member g(p in 0 .. 9, q in 0 .. 9) { let s = f(p) + f(q); return s + p + q; } } "
+            + "class b above a { member only_b() { f(1); return g(f(0), above.f(1)); } }");
+        g.make(1);
+        g.call(0, 2, 0, 0, 0);
+        check.is("run", g.run(), 0);
+        check.is("arguments of calls in calls", g.told(1, 5), (10 + 1) * 10 + (20 + 1) * 10 + 10 + 20);
     }
 
     private static void steps() {

@@ -84,6 +84,15 @@ public final class ShrinkTest {
         // half of -7 is -3, towards 0; half of that -1
         check.is("towards 0", g.shrink(), 1);
         check.same("the least", Check.row(g), "m0 0.0(-3,0,0)");
+        g = check.garden("class a { int x; kept x < -5; member m(p in -9 .. 0, q in -9 .. -1) { x = p - q - 20; } member n(p in 0 .. 9) { x = p; } }");
+        g.make(0);
+        check.is("kept at once", g.run(), 2);
+        g = check.garden("class a { int x; kept x > -9; member m(p in -9 .. 0, q in -9 .. -1, r in 0 .. 9) { x = 0 - 9; } }");
+        g.make(0);
+        g.call(0, 0, -5, -5, 5);
+        g.run();
+        check.is("each at once", g.shrink(), 3);
+        check.same("0 at an end of the range", Check.row(g), "m0 0.0(0,-9,0)");
         g = check.garden("class a { int x; kept x > -3; member m(p in -999999999 .. 999999999) { x = 0 - p * 2; } }");
         g.make(0);
         g.call(0, 0, 999999999, 0, 0);

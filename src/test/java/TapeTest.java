@@ -8,6 +8,7 @@ public final class TapeTest {
         texts();
         tokens();
         parts();
+        oneBehindAnother();
         check.end();
     }
 
@@ -140,5 +141,33 @@ public final class TapeTest {
         Check.tell(g, "class b { int x; int r[2]; member m() pure; { } } class a above b { "
             + "member k(p in 1 .. 2) gives old(x) == old(r[0]) && result == m() + above.m(); { x = 1; r[1] = (2); m(); k(5); } }");
         check.is("parts of gives and st", g.count(2), 2 + 3 + 1 + 3 + 2 + 1 + 1 + 2 + 1);
+    }
+
+    /** What a text tells does not depend on the texts ahead of it. */
+    private static void oneBehindAnother() {
+        String large = "class a { int x; int r[8]; int s[8]; kept 1; kept 2; member m(p in 0 .. 1, q in 0 .. 1) pure; needs 1; { return 1; return 2; } member n() only x; { let y = 1; } } class b above a { kept 1; }";
+        String small = "class a { int y = 4; member m() { while 0 { } } } class b { }";
+        TrialGarden g = new TrialGarden();
+        for (int i = 0; i < 5; i++) {
+            check.is("the large one", Check.tell(g, large), 2);
+            check.is("its parts", g.count(2), 7);
+            check.is("a fault between", Check.tell(g, "class a { int x; kept 1; member m(p in 0 .. 1) pure; { return 1; x = y; } }"), -1);
+            check.is("the small one", Check.tell(g, small), 2);
+            int[] due = {-1, 1, 1, 1, 0, -1};
+            for (int what = 0; what < 6; what++) {
+                check.is("about(0, " + what + ")", g.about(0, what), due[what]);
+                check.is("about(1, " + what + ")", g.about(1, what), what == 0 || what == 5 ? -1 : 0);
+            }
+            check.is("params", g.member(0, 0, 1), 0);
+            check.is("st", g.member(0, 0, 2), 1);
+            check.is("begun", g.member(0, 0, 3), 0);
+            check.is("PURE", g.member(0, 0, 4), 0);
+            check.is("parts", g.count(2), 1);
+            g.make(0);
+            g.call(0, 0, 0, 0, 0);
+            check.is("run", g.run(), 0);
+            check.is("begun", g.member(0, 0, 3), 1);
+            check.is("cell", g.cell(0, 0), 4);
+        }
     }
 }
