@@ -1,0 +1,242 @@
+import java.util.ArrayList;
+import java.util.List;
+import java.util.Random;
+
+/** Texts that are mostly without a FAULT, and texts with some TOKENS changed. */
+final class RandomText {
+    private static final String[] OPERATORS = {"||", "&&", "==", "!=", "<", "<=", ">", ">=", "+", "+", "-", "-", "*", "/", "%"};
+    private static final String[] OTHERS = ("class above int kept member in needs gives throws when only pure let if else while return throw old result size "
+        + "( ) { } [ ] , ; . .. = == != < <= > >= + - * / % && || ! & # x zz 0 9 1000000000 abcdefghijklm").split(" ");
+
+    private record Member(String name, int params, boolean pure, int toy) { }
+
+    private record Field(String name, int size) { }
+
+    private static final class Toy {
+        String name;
+        Toy above;
+        final List<Field> fields = new ArrayList<>();
+        final List<Member> members = new ArrayList<>();
+    }
+
+    private final Random random;
+    private final List<Toy> toys = new ArrayList<>();
+    private Toy toy;
+    private List<String> places = new ArrayList<>();
+    private String asking;
+    private int budget;
+    private boolean keepsPure;
+
+    RandomText(Random random) {
+        this.random = random;
+    }
+
+    String text() {
+        StringBuilder text = new StringBuilder();
+        int n = 1 + random.nextInt(3);
+        for (int i = 0; i < n; i++) {
+            text.append(aClass(i));
+        }
+        return text.toString();
+    }
+
+    String changed() {
+        List<String> parts = new ArrayList<>(List.of(text().replaceAll("([(){}\\[\\],;]|\\.\\.)", " $1 ").trim().split("\\s+")));
+        for (int i = 1 + random.nextInt(3); i > 0 && parts.size() > 1; i--) {
+            int at = random.nextInt(parts.size());
+            switch (random.nextInt(12)) {
+                case 0: parts.remove(at); break;
+                case 1: parts.add(at, one(parts)); break;
+                case 2: parts.set(at, one(parts)); break;
+                case 3: parts.set(at, OTHERS[random.nextInt(OTHERS.length)]); break;
+                case 4: parts.add(at, OTHERS[random.nextInt(OTHERS.length)]); break;
+                default: changeAlike(parts, at); break;
+            }
+        }
+        return String.join(random.nextBoolean() ? " " : "\n", parts);
+    }
+
+    /** Puts another NAME for a NAME, another sign for a sign: so that not all FAULTS are SYNTAX. */
+    private void changeAlike(List<String> parts, int from) {
+        String name = "[a-z]+[0-9]+";
+        for (int at = from; at < parts.size(); at++) {
+            String part = parts.get(at);
+            if (part.matches(name)) {
+                parts.set(at, one(parts.stream().filter(p -> p.matches(name)).toList()));
+                return;
+            }
+            if (part.matches("[0-9]+") || part.equals("pure")) {
+                parts.set(at, part.equals("pure") ? "needs 1" : one(List.of("0", "1", "9", "r", "(1)", "-1")));
+                return;
+            }
+        }
+    }
+
+    private <T> T one(List<T> of) {
+        return of.get(random.nextInt(of.size()));
+    }
+
+    private boolean chance(int percent) {
+        return random.nextInt(100) < percent;
+    }
+
+    private String aClass(int i) {
+        toy = new Toy();
+        toy.name = "c" + i;
+        asking = null;
+        places = new ArrayList<>();
+        StringBuilder text = new StringBuilder("class " + toy.name + " ");
+        if (!toys.isEmpty() && chance(60)) {
+            toy.above = one(toys);
+            toy.fields.addAll(toy.above.fields);
+            toy.members.addAll(toy.above.members);
+            text.append("above ").append(toy.above.name).append(' ');
+        }
+        text.append("{ ");
+        for (int k = random.nextInt(4); k > 0; k--) {
+            Field field = new Field("f" + i + k, chance(35) ? 1 + random.nextInt(4) : 0);
+            toy.fields.add(field);
+            text.append("int ").append(field.name).append(field.size > 0 ? "[" + field.size + "]" : "").append(chance(50) ? " = " + random.nextInt(5) : "").append("; ");
+        }
+        for (int k = random.nextInt(3); k > 1; k--) {
+            asking = "kept";
+            text.append("kept ").append(condition()).append("; ");
+        }
+        for (int k = random.nextInt(5); k > 0; k--) {
+            text.append(member(i, k));
+        }
+        toys.add(toy);
+        return text.append("} ").toString();
+    }
+
+    private String member(int i, int k) {
+        List<Member> others = toy.members.stream().filter(m -> m.toy != i).toList();
+        Member over = others.isEmpty() || chance(40) ? null : one(others);
+        String name = over == null ? "m" + i + k : over.name;
+        int params = over == null ? random.nextInt(4) : over.params;
+        boolean pure = over != null && over.pure || chance(25);
+        boolean only = !pure && !toy.fields.isEmpty() && chance(15);
+        places = new ArrayList<>();
+        StringBuilder text = new StringBuilder("member " + name + "(");
+        for (int p = 0; p < params; p++) {
+            int low = random.nextInt(7) - 4;
+            text.append(p == 0 ? "" : ", ").append("p" + p).append(" in ").append(low).append(" .. ").append(low + random.nextInt(5));
+            places.add("p" + p);
+        }
+        text.append(") ").append(pure ? "pure; " : only ? "only " + one(toy.fields).name + "; " : "");
+        Member told = new Member(name, params, pure, i);
+        toy.members.removeIf(m -> m == over);
+        toy.members.add(told);
+        for (int n = random.nextInt(3); n > 0; n--) {
+            text.append(mark());
+        }
+        asking = null;
+        budget = 2 + random.nextInt(8);
+        keepsPure = pure && chance(80);
+        text.append(block(0));
+        places = new ArrayList<>();
+        return text.toString();
+    }
+
+    private String mark() {
+        int which = random.nextInt(4);
+        asking = which == 0 ? "needs" : which == 1 ? "when" : "gives";
+        if (which == 1) {
+            String word = new String[] {"zero", "index", "bad", "odd"}[random.nextInt(4)];
+            return "throws " + word + (chance(50) ? " when " + condition() : "") + "; ";
+        }
+        return asking + " " + condition() + "; ";
+    }
+
+    private String condition() {
+        switch (random.nextInt(5)) {
+            case 0: return ex(1) + " || 1";
+            case 1: return ex(1) + " >= -9";
+            case 2: return "1";
+            default: return ex(random.nextInt(4));
+        }
+    }
+
+    private String block(int depth) {
+        int had = places.size();
+        StringBuilder text = new StringBuilder("{ ");
+        for (int n = random.nextInt(4); n > 0 && budget > 0; n--) {
+            budget--;
+            text.append(st(depth));
+        }
+        text.append(depth == 0 && chance(60) ? "return " + ex(random.nextInt(3)) + "; " : "");
+        places.subList(had, places.size()).clear();
+        return text.append("} ").toString();
+    }
+
+    private String st(int depth) {
+        int which = random.nextInt(100);
+        if (which < 12) {
+            places.add("l" + places.size());
+            return "let " + places.get(places.size() - 1) + " = " + ex(1) + "; ";
+        }
+        if (which < 45) {
+            return assignment();
+        }
+        if (which < 60 && depth < 4) {
+            return "if " + ex(1) + " " + block(depth + 1) + (chance(50) ? "else " + block(depth + 1) : "");
+        }
+        if (which < 68 && depth < 4) {
+            return "while " + ex(1) + " " + block(depth + 1);
+        }
+        if (which < 78) {
+            return which < 73 ? "return " + ex(1) + "; " : "throw " + (chance(50) ? "bad" : "odd") + "; ";
+        }
+        return aCall(1) + "; ";
+    }
+
+    private String assignment() {
+        if (!toy.fields.isEmpty() && !keepsPure && chance(70)) {
+            Field field = one(toy.fields);
+            return field.name + (field.size > 0 ? "[" + ex(random.nextInt(2)) + "]" : "") + " = " + ex(2) + "; ";
+        }
+        return places.isEmpty() ? "return 2; " : one(places) + " = " + ex(2) + "; ";
+    }
+
+    /** A call, of a PURE member in a condition; any other PART when there is none. */
+    private String aCall(int depth) {
+        boolean upper = toy.above != null && chance(30);
+        List<Member> members = (upper ? toy.above : toy).members.stream().filter(m -> asking == null || m.pure).toList();
+        if (members.isEmpty()) {
+            return asking == null ? "throw bad" : leaf();
+        }
+        Member member = one(members);
+        StringBuilder text = new StringBuilder(upper ? "above." : "").append(member.name).append('(');
+        for (int k = 0; k < member.params; k++) {
+            text.append(k == 0 ? "" : ", ").append(ex(depth - 1));
+        }
+        return text.append(')').toString();
+    }
+
+    private String ex(int depth) {
+        if (depth <= 0 || chance(25)) {
+            return leaf();
+        }
+        switch (random.nextInt(8)) {
+            case 0: return (chance(50) ? "-" : "!") + ex(depth - 1);
+            case 1: return "(" + ex(depth - 1) + ")";
+            case 2:
+                String call = aCall(depth);
+                return call.startsWith("throw") ? leaf() : call;
+            default: return ex(depth - 1) + " " + OPERATORS[random.nextInt(OPERATORS.length)] + " " + ex(depth - 1);
+        }
+    }
+
+    private String leaf() {
+        int which = random.nextInt(10);
+        if (which < 4 && !toy.fields.isEmpty()) {
+            Field field = one(toy.fields);
+            String place = field.size == 0 ? field.name : field.name + "[" + (chance(70) || places.isEmpty() ? "" + random.nextInt(field.size + 1) : one(places)) + "]";
+            return "gives".equals(asking) && chance(40) ? "old(" + place + ")" : field.size > 0 && chance(15) ? "size(" + field.name + ")" : place;
+        }
+        if (which < 7 && !places.isEmpty()) {
+            return one(places);
+        }
+        return which == 7 && "gives".equals(asking) ? "result" : "" + random.nextInt(5);
+    }
+}
