@@ -116,7 +116,7 @@ public final class DrawTest {
     }
 
     private static void cutRows() {
-        String text = "class a { member m(p in 0 .. 1) needs p; { } }";
+        String text = "class a { member m(p in 0 .. 1) needs p; { return 7; } }";
         TrialGarden g = check.garden(text);
         for (int seed = 1; seed <= 10; seed++) {
             check.is("none is bad", g.draw(0, seed, 50), 0);
@@ -129,6 +129,15 @@ public final class DrawTest {
             String last = drawn(0, seed, 49, new int[][] {{0, 1}});
             check.same("the last row", Check.row(g), last);
             check.is("its verdict", g.verdict(), last.contains("(0,") ? -1 : 0);
+            boolean gone = false;
+            for (int k = 0; k < g.row(); k++) {
+                gone = gone || (g.told(k, 1) == 0 && g.told(k, 2) == 0);
+                check.is("done ahead of where it is CUT alone", g.told(k, 6), gone ? 0 : 1);
+                check.is("what it gave", g.told(k, 5), gone || g.told(k, 1) < 0 ? 0 : 7);
+            }
         }
+        Check.tell(g, text);
+        check.is("cut() behind a new text", g.cut(), 0);
+        check.is("tried() behind a new text", g.tried(), 0);
     }
 }

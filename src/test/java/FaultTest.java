@@ -54,6 +54,11 @@ public final class FaultTest {
         fine("class a { }");
         fault(1, "class a { kept 1; ^int x; }");
         fault(1, "class a { member m() { } ^kept 1; }");
+        fault(1, "class a { int ^5; }");
+        fault(1, "class a { int ^int; }");
+        fault(1, "class a { member ^5() { } }");
+        fault(1, "class a { member ^old() { } }");
+        fault(1, "class a { member m^; }");
         fault(1, "class a { int x = ^+5; }");
         fault(1, "class a { int x = -^-5; }");
         fault(1, "class a { int r[^-1]; }");
@@ -92,6 +97,9 @@ public final class FaultTest {
         inMember(1, "^else { }");
         inMember(1, "if 1 ^x = 1;");
         inMember(1, "if 1 { } else ^if 1 { }");
+        inMember(1, "if 1 { } else { } ^else { }");
+        inMember(1, "while 1 { } ^else { }");
+        inMember(1, "x = above.^5(1);");
         inMember(1, "throw ^5;");
         inMember(1, "throw ^if;");
         inMember(1, "return ^;");
@@ -224,6 +232,15 @@ public final class FaultTest {
         inMember(4, "return " + times(40, "(") + "^-1" + times(40, ")") + ";");
         inMember(4, "return " + times(40, "(") + "r^[1]" + times(40, ")") + ";");
         inMember(4, "return " + times(40, "(") + "m^()" + times(40, ")") + ";");
+        inMember(4, "return " + times(40, "(") + "size^(r)" + times(40, ")") + ";");
+        inMember(4, "return " + times(40, "r[") + "r^[1]" + times(40, "]") + ";");
+        inMember(4, "return " + times(40, "p(1, ") + "p^(1, 1)" + times(40, ")") + ";");
+        inMember(4, "return " + times(40, "above.p(1, ") + "^(1)" + times(40, ")") + ";");
+        String inGives = "class a { int x; int r[3]; member m() gives ";
+        fault(4, inGives + times(40, "(") + "old^(x)" + times(40, ")") + "; { } }");
+        fault(4, inGives + times(39, "(") + "old(r^[1])" + times(39, ")") + "; { } }");
+        fault(4, inGives + times(20, "old(r[") + "^(1)" + times(20, "])") + "; { } }");
+        fine(inGives + times(38, "(") + "old(r[1])" + times(38, ")") + "; { } }");
         inMember(0, "return " + times(39, "(") + "m()" + times(39, ")") + " + " + times(39, "(") + "r[1]" + times(39, ")") + ";");
         inMember(0, "p(1, " + times(40, "(") + "1" + times(40, ")") + ");");
         // What is closed is open no more: 64 of each, in an ex of HEIGHT 9 at most.

@@ -8,6 +8,7 @@ public final class RunningTest {
         statements();
         members();
         argumentsWithin();
+        ownPlaces();
         steps();
         nesting();
         thrown();
@@ -59,6 +60,11 @@ public final class RunningTest {
         gives("5 == 5 == 5", 0);
         gives("2 <= 2", 1);
         gives("2 >= 3", 0);
+        gives("3 >= 3", 1);
+        gives("2 < 2", 0);
+        gives("2 > 2", 0);
+        gives("7 || 0", 1);
+        gives("5 + (7 || 0)", 6);
         gives("2 != 3", 1);
         gives("2 != 2", 0);
         gives("1 || 0 && 0", 1);
@@ -109,6 +115,9 @@ public final class RunningTest {
 
     private static void statements() {
         check.is("no return", done("x = 5;").told(1, 5), 0);
+        check.is("what is behind an else", done("if 1 { x = 5; } else { x = 6; } return x + 1;").told(1, 5), 6);
+        check.is("what is behind an else that is done", done("if 0 { x = 5; } else { x = 6; } return x + 1;").told(1, 5), 7);
+        check.is("what is behind a while", done("while x < 5 { x = x + 1; } x = x * 2; return x;").told(1, 5), 10);
         check.is("return ends it", done("return 1; x = 9;").cell(0, 0), 3);
         check.is("a return within", done("while 1 { if x > 5 { return x; } x = x + 1; }").told(1, 5), 6);
         check.is("if", done("if x == 3 { return 1; } else { return 2; }").told(1, 5), 1);
@@ -157,6 +166,22 @@ public final class RunningTest {
         }
     }
 
+    /** Three params and eight LOCALS of each of twenty members in one another are their own. */
+    private static void ownPlaces() {
+        StringBuilder lets = new StringBuilder();
+        StringBuilder sum = new StringBuilder("a + b + c");
+        for (int i = 0; i < 8; i++) {
+            lets.append("let l").append(i).append(" = a + ").append(i).append("; ");
+            sum.append(i % 4 == 0 ? " + (0" : "").append(" + l").append(i).append(i % 4 == 3 ? ")" : "");
+        }
+        TrialGarden g = check.garden("class a { int broken; member deep(a in 0 .. 99, b in 0 .. 99, c in 0 .. 99) { " + lets
+            + "if a > 1 { deep(a - 1, 5, 6); } if " + sum + " != 9 * a + b + c + 28 { broken = broken + 1; } } }");
+        g.make(0);
+        g.call(0, 0, 20, 50, 60);
+        check.is("run", g.run(), 0);
+        check.is("all as they were", g.cell(0, 0), 0);
+    }
+
     private static void argumentsWithin() {
         TrialGarden g = check.garden("class a { int x; member f(p in 0 .. 9) { p = p + 1; return p * 10; } member g(p in 0 .. 9, q in 0 .. 9) { let s = f(p) + f(q); return s + p + q; } } "
             + "class b above a { member only_b() { f(1); return g(f(0), above.f(1)); } }");
@@ -188,6 +213,9 @@ public final class RunningTest {
         check.is("2 + 1 + 3 * 100", spent(calls, 1, 100), 8);
         check.is("ex: 2 + 1 + 3 * 99", spent(calls, 2, 99), 0);
         check.is("ex: 2 + 1 + 3 * 100", spent(calls, 2, 100), 8);
+        String given = "class a { member w(p in 0 .. 9) { } member by(n in 0 .. 999) { let i = 0; while i < n { i = i + 1 + w(i); } } }";
+        check.is("with arguments: 2 + 1 + 3 * 99", spent(given, 1, 99), 0);
+        check.is("with arguments: 2 + 1 + 3 * 100", spent(given, 1, 100), 8);
         check.is("arg: 2 + 1 + 4 * 74", spent(calls, 4, 74), 0);
         check.is("arg: 2 + 1 + 4 * 75", spent(calls, 4, 75), 8);
         // an if is a st

@@ -117,6 +117,24 @@ public final class ShrinkTest {
         check.same("the least", Check.row(g), "m0 0.0(4,0,0)");
         check.is("numbered anew", g.condition(1), 0);
         check.is("one OBJECT", g.count(3), 1);
+        // OBJECTS of two classes, whose members have other ranges: the row is told of, and goes on.
+        g = check.garden("class a { member m(p in 5 .. 9) { } } class b { int x; kept x < 3; member m(p in 0 .. 90) { x = p; } }");
+        g.make(1);
+        g.make(0);
+        g.call(0, 0, 0, 0, 0);
+        g.clear();
+        g.make(0);
+        g.make(1);
+        g.call(1, 0, 80, 0, 0);
+        g.run();
+        // without the first MAKE; 40, 20, 10, 5
+        check.is("shrink", g.shrink(), 5);
+        check.same("the least", Check.row(g), "m1 0.0(5,0,0)");
+        check.is("a CALL of what is there", g.call(0, 0, 50, 0, 0), 3);
+        check.is("no second OBJECT", g.call(1, 0, 50, 0, 0), -2);
+        check.is("a MAKE behind it", g.make(0), 1);
+        check.is("its range", g.call(1, 0, 50, 0, 0), -2);
+        check.is("its range", g.call(1, 0, 9, 0, 0), 5);
         g = check.garden("class a { kept 0; }");
         g.make(0);
         g.run();

@@ -148,6 +148,29 @@ public final class TapeTest {
         String large = "class a { int x; int r[8]; int s[8]; kept 1; kept 2; member m(p in 0 .. 1, q in 0 .. 1) pure; needs 1; { return 1; return 2; } member n() only x; { let y = 1; } } class b above a { kept 1; }";
         String small = "class a { int y = 4; member m() { while 0 { } } } class b { }";
         TrialGarden g = new TrialGarden();
+        StringBuilder full = new StringBuilder();
+        for (int c = 0; c < 8; c++) {
+            full.append("class c").append(c).append(" { int x; int y; ");
+            for (int m = 0; m < 12; m++) {
+                full.append("member m").append(m).append(m % 2 == 0 ? "() only x; { throw w; } " : "() { throw w; } ");
+            }
+            full.append("} ");
+        }
+        String only = "class a { int x; int y; member m() throws z; only y; { y = 1; throw z; } member n() only x; { x = 1; } }";
+        for (int i = 0; i < 12; i++) {
+            check.is("one with all members", Check.tell(g, full.toString()), 8);
+            check.is("the last one", g.member(7, 11, 0), 7);
+            check.is("its st", g.member(7, 11, 2), 1);
+            g.make(7);
+            g.call(0, 11, 0, 0, 0);
+            check.is("it THROWS", g.run(), 3);
+            check.is("its WORD", g.thrown(0), 'w');
+            check.is("one with only", Check.tell(g, only), 1);
+            g.make(0);
+            g.call(0, 0, 0, 0, 0);
+            g.call(0, 1, 0, 0, 0);
+            check.is("run", g.run(), 0);
+        }
         for (int i = 0; i < 5; i++) {
             check.is("the large one", Check.tell(g, large), 2);
             check.is("its parts", g.count(2), 7);

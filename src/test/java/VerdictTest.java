@@ -65,6 +65,10 @@ public final class VerdictTest {
         text = text.replace("q < 3", "1");
         g = ran(text, 1, 0, 7);
         condition("then those above", g, 0, 0, text.indexOf("result == p"), 2);
+        g.clear();
+        g.make(0);
+        g.run();
+        noCondition("not of the next run", g);
         // params as they were told, though the member has set them
         verdict("params as told", ran("class a { member m(p in 0 .. 9) gives p == 3; { p = 9; } }", 0, 0, 3), 0);
         verdict("gives are not asked when something was THROWN", ran("class a { member m(p in 0 .. 9) gives 0; throws w; { throw w; } }", 0, 0, 3), 0);
@@ -147,6 +151,11 @@ public final class VerdictTest {
         g.call(1, 1, 5, 0, 0);
         g.run();
         changed("of the second OBJECT", g, 1, 0);
+        g.clear();
+        changed("the latest run's still", g, 1, 0);
+        g.make(0);
+        g.run();
+        changed("not of the next run", g, -1, -1);
     }
 
     private static void needs() {
