@@ -8,6 +8,7 @@ public final class RunningTest {
         statements();
         members();
         argumentsWithin();
+        callsWithin();
         ownPlaces();
         steps();
         nesting();
@@ -180,6 +181,14 @@ public final class RunningTest {
         g.call(0, 0, 20, 50, 60);
         check.is("run", g.run(), 0);
         check.is("all as they were", g.cell(0, 0), 0);
+    }
+
+    private static void callsWithin() {
+        TrialGarden g = check.garden("class a { member one() { return 5; } member two() { one(); one(); return 2; } member three() { return 100 + two() * two(); } }");
+        g.make(0);
+        g.call(0, 2, 0, 0, 0);
+        check.is("run", g.run(), 0);
+        check.is("what a st's call gives is gone", g.told(1, 5), 104);
     }
 
     private static void argumentsWithin() {

@@ -152,24 +152,36 @@ public final class TapeTest {
         for (int c = 0; c < 8; c++) {
             full.append("class c").append(c).append(" { int x; int y; ");
             for (int m = 0; m < 12; m++) {
-                full.append("member m").append(m).append(m % 2 == 0 ? "() only x; { throw w; } " : "() { throw w; } ");
+                full.append("member m").append(m).append(m % 2 == 0 ? "() only x; { throw w" : "() { throw w").append(c).append("; } ");
             }
             full.append("} ");
         }
-        String only = "class a { int x; int y; member m() throws z; only y; { y = 1; throw z; } member n() only x; { x = 1; } }";
+        String only = "class a { int x; int y; member m() throws z; only y; { y = 1; throw z; } member n() only x; { x = 1; } member o() only y; { x = 2; } }";
         for (int i = 0; i < 12; i++) {
             check.is("one with all members", Check.tell(g, full.toString()), 8);
-            check.is("the last one", g.member(7, 11, 0), 7);
-            check.is("its st", g.member(7, 11, 2), 1);
-            g.make(7);
-            g.call(0, 11, 0, 0, 0);
-            check.is("it THROWS", g.run(), 3);
-            check.is("its WORD", g.thrown(0), 'w');
+            int place = 0;
+            for (int c = 0; c < 8; c++) {
+                for (int m = 0; m < 12; m++) {
+                    place = full.indexOf("member m", place + 1);
+                    check.is("the class that tells it", g.member(c, m, 0), c);
+                    check.is("its st", g.member(c, m, 2), 1);
+                    check.is("its place", g.member(c, m, 5), place + 7);
+                }
+                g.clear();
+                g.make(c);
+                g.call(0, 3, 0, 0, 0);
+                check.is("it THROWS", g.run(), 3);
+                check.same("its WORD", Check.thrown(g), "w" + c);
+                check.is("its st is begun", g.member(c, 3, 3), 1);
+                check.is("that of another is not", g.member(c, 4, 3), 0);
+            }
             check.is("one with only", Check.tell(g, only), 1);
             g.make(0);
             g.call(0, 0, 0, 0, 0);
             g.call(0, 1, 0, 0, 0);
             check.is("run", g.run(), 0);
+            g.call(0, 2, 0, 0, 0);
+            check.is("only what this text tells", g.run(), 4);
         }
         for (int i = 0; i < 5; i++) {
             check.is("the large one", Check.tell(g, large), 2);
