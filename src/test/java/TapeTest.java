@@ -157,7 +157,7 @@ public final class TapeTest {
             full.append("} ");
         }
         String only = "class a { int x; int y; member m() throws z; only y; { y = 1; throw z; } member n() only x; { x = 1; } member o() only y; { x = 2; } }";
-        for (int i = 0; i < 12; i++) {
+        for (int i = 0; i < 24; i++) {
             check.is("one with all members", Check.tell(g, full.toString()), 8);
             int place = 0;
             for (int c = 0; c < 8; c++) {
@@ -182,6 +182,7 @@ public final class TapeTest {
             check.is("run", g.run(), 0);
             g.call(0, 2, 0, 0, 0);
             check.is("only what this text tells", g.run(), 4);
+            check.is("a third one, so that each takes each other's place", Check.tell(g, "class z { }"), 1);
         }
         for (int i = 0; i < 5; i++) {
             check.is("the large one", Check.tell(g, large), 2);
