@@ -2752,8 +2752,8 @@ public final class TrialGarden {
             return Math.min(text.tellings[told].firstMark + text.tellings[told].markCount, text.markCount) - 1;
         }
 
-        private void askNeeds(Run run, int object, int first) {
-            int told = first;
+        private void askNeeds(Run run, int object, int lowest) {
+            int told = lowest;
             for (int up = 0; up < Text.CLASSES && told != NONE; up++) {
                 boolean met = true;
                 int last = lastMark(told);
@@ -2769,12 +2769,12 @@ public final class TrialGarden {
         }
 
         /** What was THROWN must be told by a throws that holds; its when sees all as ahead of the call. */
-        private void askThrows(Run run, int object, int first) {
+        private void askThrows(Run run, int object, int lowest) {
             if (run.verdict != 0 || run.outcome != Machine.THREW) {
                 return;
             }
             long word = run.thrownWord;
-            int told = first;
+            int told = lowest;
             for (int up = 0; up < Text.CLASSES && told != NONE; up++) {
                 int last = lastMark(told);
                 for (int m = text.tellings[told].firstMark; m <= last; m++) {
@@ -2788,24 +2788,27 @@ public final class TrialGarden {
             run.verdict = NOT_TOLD;
         }
 
-        private void findChanges(Run run, int object, int first) {
+        private void findChanges(Run run, int object, int lowest) {
             if (run.verdict != 0) {
                 return;
             }
             Toy toy = text.toys[run.toyOf[object]];
             int[] cells = run.cells[object];
-            int changedCell = toy.changedCell(run.before, cells, 0);
-            if (changedCell != NONE && text.tellings[first].pure) {
-                run.breakAt(NOT_PURE, object, changedCell);
+            int first = toy.changedCell(run.before, cells, 0);
+            if (first == NONE) {
                 return;
             }
-            int told = first;
+            if (text.tellings[lowest].pure) {
+                run.breakAt(NOT_PURE, object, first);
+                return;
+            }
+            int told = lowest;
             for (int up = 0; up < Text.CLASSES && told != NONE; up++) {
                 int last = lastMark(told);
                 for (int m = text.tellings[told].firstMark; m <= last; m++) {
-                    changedCell = toy.changedCell(run.before, cells, text.markFields[m]);
-                    if (text.markKind[m] == Text.ONLY && changedCell != NONE) {
-                        run.breakAt(NOT_ONLY, object, changedCell);
+                    first = toy.changedCell(run.before, cells, text.markFields[m]);
+                    if (text.markKind[m] == Text.ONLY && first != NONE) {
+                        run.breakAt(NOT_ONLY, object, first);
                         return;
                     }
                 }
@@ -2813,11 +2816,11 @@ public final class TrialGarden {
             }
         }
 
-        private void askGives(Run run, int object, int first) {
+        private void askGives(Run run, int object, int lowest) {
             if (run.verdict != 0 || run.outcome != Machine.GAVE) {
                 return;
             }
-            int told = first;
+            int told = lowest;
             for (int up = 0; up < Text.CLASSES && told != NONE; up++) {
                 int last = lastMark(told);
                 for (int m = text.tellings[told].firstMark; m <= last; m++) {
