@@ -1920,6 +1920,8 @@ public final class TrialGarden {
         static final int SPENT = 3;
         static final int IMPURE = 4;
 
+        // go() tells codes apart by their order: those that put a number on the stack, that turn one, that
+        // take none, that use one up; above them are SET_CELL and the operators, which take two.
         static final int NUMBER = 1;
         static final int LOCAL = 2;
         static final int FIELD = 3;
@@ -2018,7 +2020,7 @@ public final class TrialGarden {
                 } else if (op <= THROW) {
                     act(op, arg);
                 } else if (op == CALL) {
-                    enter(toy.teller[arg]);
+                    enter(arg < toy.members ? toy.teller[arg] : NONE);
                 } else if (op == CALL_ABOVE) {
                     enter(arg);
                 } else if (op == END) {
@@ -2173,7 +2175,7 @@ public final class TrialGarden {
             nest++;
             backs[nest] = pc;
             pc = telling.start;
-            depth = Math.max(depth - telling.params, 0);
+            depth = depth > telling.params ? depth - telling.params : 0;
             for (int k = 0; k < telling.params; k++) {
                 slots[nest * SLOTS + k] = stack[depth + k];
             }
