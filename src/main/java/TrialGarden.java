@@ -68,6 +68,7 @@ public final class TrialGarden {
             reader.readClass();
         }
         reader.finish();
+        tapeLength = 0;
         faultKind = reader.faultKind();
         faultPlace = reader.faultPlace();
         if (faultKind != 0) {
@@ -76,7 +77,6 @@ public final class TrialGarden {
         Text read = spare;
         spare = text;
         text = read;
-        tapeLength = 0;
         trial.useText(text);
         return text.classCount;
     }

@@ -270,8 +270,10 @@ final class NaiveGarden {
     boolean asItIs = false;
 
     int classes() {
+        String told = tape;
+        tape = "";
         try {
-            text = new NaiveText(tape);
+            text = new NaiveText(told);
         } catch (NaiveText.Fault fault) {
             faultKind = fault.kind;
             faultPlace = fault.place;
@@ -280,7 +282,6 @@ final class NaiveGarden {
         toys = text.toys;
         faultKind = 0;
         faultPlace = -1;
-        tape = "";
         row = new ArrayList<>();
         run = new Run();
         tried = 0;

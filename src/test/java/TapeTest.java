@@ -66,7 +66,17 @@ public final class TapeTest {
         check.is("blanks alone", g.classes(), -1);
         check.is("their FAULT", g.fault(0), 1);
         check.is("at the end", g.fault(1), 5);
-        check.is("the tape stays", g.count(1), 5);
+        check.is("the tape is empty behind a FAULT too", g.count(1), 0);
+        check.is("its bytes are gone", g.end(1), -1);
+        check.is("feed behind a FAULT", g.feed(0, 0, 0, 0, 0), 20);
+        check.is("a bad byte", g.classes(), -1);
+        check.is("its place", g.fault(1), 0);
+        check.is("an empty tape", g.classes(), -1);
+        check.is("its FAULT", g.fault(0), 1);
+        check.is("its place", g.fault(1), 0);
+        check.is("feed anew", g.feed(0x636c6173, 0x73206120, 0x7b207d20, 0x20202020, 0x20202020), 20);
+        check.is("a text behind FAULTS, alone on the tape", g.classes(), 1);
+        check.is("the tape behind it", g.count(1), 0);
     }
 
     private static void texts() {
@@ -87,7 +97,7 @@ public final class TapeTest {
         check.is("all stays: the row", g.row(), 1);
         check.is("all stays: the model", g.about(1, 5), 0);
         check.is("all stays: the run", g.cell(0, 0), 0);
-        check.is("all stays: the tape", g.count(1), 24);
+        check.is("all stays but for the tape", g.count(1), 0);
         g.draw(1, 3, 5);
         check.is("a new text", Check.tell(g, "class a { kept 0; }"), 1);
         check.is("all as at first: the row", g.row(), 0);
