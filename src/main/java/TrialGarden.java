@@ -328,6 +328,7 @@ public final class TrialGarden {
         private byte[] tape;
         private int length;
         private int at;
+        private boolean bracketBehindAll;
         int faultKind;
         int faultPlace;
 
@@ -406,6 +407,7 @@ public final class TrialGarden {
             }
             kinds[MOST + 1] = STOP;
             places[MOST + 1] = length;
+            bracketBehindAll = byteAt(behindBlanks(p)) == '(';
         }
 
         private int behindBlanks(int from) {
@@ -506,6 +508,11 @@ public final class TrialGarden {
             return values[at];
         }
 
+        /** Whether a ( stands here, which makes the NAME ahead a member's; it may be behind the 1201st TOKEN. */
+        boolean atBracket() {
+            return at > MOST ? bracketBehindAll : kinds[at] == '(';
+        }
+
         void next() {
             if (at <= MOST) {
                 at++;
@@ -513,13 +520,14 @@ public final class TrialGarden {
         }
 
         /**
-         * Tells a FAULT, if it is the first. When the 1201st TOKEN was taken already its ROOM is what was
-         * come to first; so the lesser KINDS of a TOKEN are told ahead of next(), the greater ones behind it.
+         * Tells a FAULT, if it is the first. When the 1201st TOKEN was taken already its ROOM goes ahead of
+         * all but a lesser KIND of that TOKEN, which the TOKEN behind it may show.
          */
         void fail(int kind, int place) {
+            boolean full = at > MOST && (kind > ROOM || place != places[MOST]);
             if (faultKind == 0) {
-                faultKind = at > MOST ? ROOM : kind;
-                faultPlace = at > MOST ? places[MOST] : place;
+                faultKind = full ? ROOM : kind;
+                faultPlace = full ? places[MOST] : place;
             }
             at = MOST + 1;
         }
@@ -1014,7 +1022,7 @@ public final class TrialGarden {
             long word = tokens.value();
             int place = tokens.place();
             tokens.next();
-            if (tokens.kind() == '(') {
+            if (tokens.atBracket()) {
                 int k = text.memberNamed(scope.toy, word);
                 if (k == NONE) {
                     tokens.fail(Tokens.NAMING, place);
@@ -1743,7 +1751,7 @@ public final class TrialGarden {
             if (!startsStatement(kind)) {
                 tokens.fail(Tokens.SYNTAX, tokens.place());
             } else if (telling.stCount >= STATEMENTS) {
-                tokens.fail(Tokens.ROOM, tokens.place());
+                refuseStatement();
             }
             telling.stCount++;
             text.emit(Machine.STEP, text.addStatement());
@@ -1759,6 +1767,19 @@ public final class TrialGarden {
                         readAssignment();
                     }
                     break;
+            }
+        }
+
+        /** ROOM at the st's first TOKEN; but if that is a NAME which isn't there, this is the lesser KIND. */
+        private void refuseStatement() {
+            int place = tokens.place();
+            if (tokens.kind() == Tokens.NAME) {
+                long word = tokens.value();
+                tokens.next();
+                int found = tokens.atBracket() ? text.memberNamed(toy, word) : scope.placeNamed(word);
+                tokens.fail(found == NONE ? Tokens.NAMING : Tokens.ROOM, place);
+            } else {
+                tokens.fail(Tokens.ROOM, place);
             }
         }
 
@@ -1840,7 +1861,7 @@ public final class TrialGarden {
             int start = tokens.place();
             long word = tokens.value();
             tokens.next();
-            boolean calls = tokens.kind() == '(';
+            boolean calls = tokens.atBracket();
             int found = calls ? text.memberNamed(toy, word) : scope.placeNamed(word);
             if (found == NONE) {
                 tokens.fail(Tokens.NAMING, start);
@@ -2641,14 +2662,15 @@ public final class TrialGarden {
 
         /** Takes the first lesser row that breaks alike, and begins again from it, as long as there is one. */
         int makeLeast() {
+            int verdict = latest.verdict;
+            int place = latest.brokenPlace(text);
             int taken = 0;
             int number = 0;
             for (int i = 0; i < LOOKED_AT && number < Row.LESSER; i++) {
                 boolean alike = spareRow.becomeLesser(text, row, number);
                 if (alike) {
                     runThrough(spareRow, spareRun);
-                    alike = spareRun.verdict == latest.verdict
-                        && spareRun.brokenPlace(text) == latest.brokenPlace(text);
+                    alike = spareRun.verdict == verdict && spareRun.brokenPlace(text) == place;
                 }
                 number++;
                 if (alike) {
@@ -2656,6 +2678,10 @@ public final class TrialGarden {
                     taken++;
                     number = 0;
                 }
+            }
+            if (taken == 0) {
+                // The MODELS may be others than in the run that is told of: what is told is as they are now.
+                runThrough(row, latest);
             }
             return taken;
         }

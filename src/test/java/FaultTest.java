@@ -9,6 +9,7 @@ public final class FaultTest {
         ranges();
         rooms();
         tokenRoom();
+        namesAheadOfRoom();
         sorts();
         arguments();
         heights();
@@ -214,7 +215,6 @@ public final class FaultTest {
         inMember(0, times(40, "m(); "));
         inMember(4, times(40, "m(); ") + "^m();");
         inMember(4, times(38, "m(); ") + "if 1 { m(); ^return 1; }");
-        inMember(4, times(40, "m(); ") + "^yy = 1;");
         inMember(1, times(40, "m(); ") + "^else");
         String locals = "";
         for (int i = 0; i < 8; i++) {
@@ -287,11 +287,82 @@ public final class FaultTest {
         fault(4, ofTokens(1201, 3, "} } ^class"));
         fault(1, ofTokens(1201, 3, "} } ^#"));
         fault(2, ofTokens(1201, 5, "return ^yy; } }"));
-        fault(4, ofTokens(1204, 5, "return ^yy; } }"));
         fault(2, ofTokens(1203, 5, "return ^yy; } }"));
         fault(4, ofTokens(1204, 7, "let y = ^1; } }"));
         fault(2, ofTokens(1206, 7, "let ^x = 1; } }"));
         fault(4, ofTokens(1206, 7, "let ^y = 1; } }"));
+    }
+
+    /** Of one TOKEN the least KIND: the 41st st or the 1201st TOKEN may be a NAME that isn't there. */
+    private static void namesAheadOfRoom() {
+        String forty = times(40, "m(); ");
+        inMember(2, forty + "^yy = 1;");
+        inMember(2, forty + "^yy();");
+        inMember(2, forty + "^yy #");
+        inMember(2, forty + "^m = 1;");
+        inMember(2, forty + "^x(1);");
+        inMember(2, times(39, "m(); ") + "if 1 { ^yy[0] = 1; }");
+        inMember(2, times(38, "m(); ") + "if 1 { let y = 1; } ^y = 1;");
+        inMember(4, times(39, "m(); ") + "let y = 1; ^y = 1;");
+        inMember(4, forty + "^x = 1;");
+        inMember(4, forty + "^z = 1;");
+        inMember(4, forty + "^k(1);");
+        inMember(4, forty + "^x #");
+        inMember(4, forty + "^r = 1;");
+        inMember(4, forty + "^x[0] = 1;");
+        inMember(4, forty + "^above.yy();");
+        inMember(4, forty + "^let x = 1;");
+        inMember(4, forty + "^throw w;");
+        fault(4, "class a { member m() { } member n() { " + forty + "^above.m(); } }");
+        fault(2, "class a { member m() { " + times(40, "m(); ") + "^r");
+        fault(2, "class a { member m() { " + times(40, "m(); ") + "^n(); } member n() { } }");
+
+        lastToken(2, 1, "return ", "^yy", "; } }");
+        lastToken(2, 1, "return ", "^yy", "");
+        lastToken(2, 1, "return ", "^yy", "#");
+        lastToken(2, 1, "return ", "^yy", " \n (");
+        lastToken(2, 1, "return ", "^z", "; } }");
+        lastToken(4, 1, "return ", "^z", "(); } }");
+        lastToken(4, 1, "return ", "^z", "\n  (); } }");
+        lastToken(4, 1, "return ", "^z", "(1); } }");
+        lastToken(2, 1, "return ", "^x", "(); } }");
+        lastToken(4, 1, "return ", "^x", "; } }");
+        lastToken(4, 1, "return ", "^x", "[0]; } }");
+        lastToken(4, 1, "return ", "^r", "; } }");
+        lastToken(4, 1, "return ", "^r", "[0]; } }");
+        lastToken(2, 0, "", "^yy", " = 1; } }");
+        lastToken(2, 0, "", "^yy", "(); } }");
+        lastToken(2, 0, "", "^x", "(); } }");
+        lastToken(2, 0, "", "^z", " = 1; } }");
+        lastToken(4, 0, "", "^z", "(); } }");
+        lastToken(4, 0, "", "^x", " = 1; } }");
+        lastToken(4, 0, "", "^r", " = 1; } }");
+        lastToken(4, 0, "", "^above", ".z(); } }");
+        lastToken(4, 1, "return ", "^(", "yy); } }");
+        lastToken(4, 2, "return -", "^-", "yy; } }");
+        lastToken(2, 3, "return size(", "^yy", "); } }");
+        lastToken(4, 3, "return size(", "^x", "); } }");
+        lastToken(2, 8, "} member h() gives old(", "^yy", "); { } }");
+        lastToken(2, 8, "} member h() gives old(", "^z", "(); { } }");
+        lastToken(4, 8, "} member h() gives old(", "^r", "); { } }");
+        lastToken(4, 8, "} member h() gives old(", "^x", "); { } }");
+        lastToken(2, 6, "} member h() only ", "^yy", "; { } }");
+        lastToken(2, 2, "} member ", "^z", "() { } }");
+        lastToken(4, 2, "} member ", "^h", "() { } }");
+        lastToken(4, 6, "} member h() needs ", "^z", "(); { } }");
+        lastToken(2, 6, "} member h() needs ", "^h", "; { } }");
+        lastToken(4, 6, "} member h() needs ", "^h", "(); { } }");
+        lastToken(1, 6, "} member h() needs ", "^old", "(yy); { } }");
+        lastToken(3, 8, "} member h(p in 1 .. ", "^0", ") { } }");
+        // With one TOKEN less ahead, the 1201st is the one behind the NAME: what waits for it is told.
+        fault(5, ofTokens(1200, 2, "return ^r") + " = 1; } }");
+        fault(4, ofTokens(1200, 2, "return x") + "^; } }");
+        fault(2, ofTokens(1200, 2, "return ^yy") + "; } }");
+    }
+
+    /** A text whose 1201st TOKEN is the one that is told apart, behind so many TOKENS in a member. */
+    private static void lastToken(int kind, int aheadTokens, String ahead, String last, String behind) {
+        fault(kind, ofTokens(1201, aheadTokens + 1, ahead + last) + behind);
     }
 
     private static void sorts() {

@@ -583,6 +583,9 @@ final class NaiveGarden {
         while (takeLesser()) {
             taken++;
         }
+        if (taken == 0) {
+            tell(row, runRow(row));
+        }
         return taken;
     }
 

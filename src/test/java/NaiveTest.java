@@ -14,14 +14,19 @@ public final class NaiveTest {
             Random random = new Random(i);
             RandomText maker = new RandomText(random);
             compare(random, random.nextInt(3) > 0 ? maker.text() : maker.changed());
+            compareFaults(new RandomText(random).crowded());
         }
         System.out.println("verdicts from -1 on " + java.util.Arrays.toString(verdicts) + ", FAULTS " + java.util.Arrays.toString(faults));
         check.end();
     }
 
-    private static void compare(Random random, String text) {
-        TrialGarden g = new TrialGarden();
-        NaiveGarden naive = new NaiveGarden();
+    private static void compareFaults(String text) {
+        if (text.length() <= 4000) {
+            read(new TrialGarden(), new NaiveGarden(), text);
+        }
+    }
+
+    private static int read(TrialGarden g, NaiveGarden naive, String text) {
         Check.onTape(g, text);
         naive.tape = text;
         int classes = naive.classes();
@@ -30,7 +35,13 @@ public final class NaiveTest {
         check.is("fault(1) of " + text, g.fault(1), naive.faultPlace);
         check.is("count(1) of " + text, g.count(1), naive.tape.length());
         faults[naive.faultKind]++;
-        if (classes < 0) {
+        return classes;
+    }
+
+    private static void compare(Random random, String text) {
+        TrialGarden g = new TrialGarden();
+        NaiveGarden naive = new NaiveGarden();
+        if (read(g, naive, text) < 0) {
             return;
         }
         check.is("count(2) of " + text, g.count(2), naive.text.parts);
@@ -38,17 +49,25 @@ public final class NaiveTest {
             int verdict = one(random, g, naive, text);
             verdicts[Math.min(Math.max(verdict, -1), 9) + 1]++;
             observe(g, naive, text);
+            if (random.nextInt(3) == 0) {
+                otherModel(random, g, naive);
+            }
             check.is("shrink() of " + text, g.shrink(), naive.shrink());
             observe(g, naive, text);
         }
+    }
+
+    private static void otherModel(Random random, TrialGarden g, NaiveGarden naive) {
+        int c = random.nextInt(naive.toys.size());
+        naive.toys.get(c).model = random.nextInt(naive.toys.size() + 1) - 1;
+        check.is("model()", g.model(c, naive.toys.get(c).model), 1);
     }
 
     private static int one(Random random, TrialGarden g, NaiveGarden naive, String text) {
         int classes = naive.toys.size();
         int c = random.nextInt(classes);
         if (random.nextInt(3) == 0) {
-            naive.toys.get(c).model = random.nextInt(classes + 1) - 1;
-            check.is("model()", g.model(c, naive.toys.get(c).model), 1);
+            otherModel(random, g, naive);
         }
         int due;
         switch (random.nextInt(3)) {

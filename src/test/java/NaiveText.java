@@ -261,6 +261,12 @@ final class NaiveText {
         return toy.field(name) != null || params.contains(name) || locals.contains(name);
     }
 
+    /** Whether the NAME here isn't there: as a member with ( behind, else as a field, param or LOCAL. */
+    private boolean isMissing() {
+        String word = now().word;
+        return tokens.get(at + 1).kind.equals("(") ? toy.member(word) == null : !isThere(word);
+    }
+
     private void readMember() {
         take("member");
         member = new Member();
@@ -373,7 +379,7 @@ final class NaiveText {
             take(";");
             return st;
         }
-        Token first = takeRoom(st.kind, full);
+        Token first = take(st.kind, at("NAME") && isMissing(), false, full, false, false);
         switch (st.kind) {
             case "let":
                 st.name = take("NAME", isThere(now().word), false, locals.size() >= 8, false, false).word;
@@ -567,7 +573,7 @@ final class NaiveText {
                 }
                 take("old");
                 openBracket("(");
-                tree.parts.add(readPlace(take("NAME"), true));
+                tree.parts.add(readPlace(take("NAME", at("NAME") && !isThere(now().word), false, false, false, false), true));
                 take(")");
                 open--;
                 parts++;
@@ -591,7 +597,7 @@ final class NaiveText {
                 tree.number = field.size;
                 return tree;
             default:
-                return readName(take("NAME"));
+                return readName(take("NAME", at("NAME") && isMissing(), false, false, false, false));
         }
     }
 

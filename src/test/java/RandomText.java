@@ -2,7 +2,7 @@ import java.util.ArrayList;
 import java.util.List;
 import java.util.Random;
 
-/** Texts that are mostly without a FAULT, and texts with some TOKENS changed. */
+/** Texts that are mostly without a FAULT, texts with some TOKENS changed, and texts for which there is no ROOM. */
 final class RandomText {
     private static final String[] OPERATORS = {"||", "&&", "==", "!=", "<", "<=", ">", ">=", "+", "+", "-", "-", "*", "/", "%"};
     private static final String[] OTHERS = ("class above int kept member in needs gives throws when only pure let if else while return throw old result size "
@@ -41,7 +41,48 @@ final class RandomText {
     }
 
     String changed() {
-        List<String> parts = new ArrayList<>(List.of(text().replaceAll("([(){}\\[\\],;]|\\.\\.)", " $1 ").trim().split("\\s+")));
+        List<String> parts = parts();
+        change(parts);
+        return String.join(random.nextBoolean() ? " " : "\n", parts);
+    }
+
+    /** A text, changed or not, that goes on beyond 1200 TOKENS or has a member of more than 40 st. */
+    String crowded() {
+        List<String> parts = parts();
+        if (random.nextBoolean()) {
+            change(parts);
+        }
+        List<Integer> blocks = new ArrayList<>();
+        for (int i = 1; i < parts.size(); i++) {
+            if (parts.get(i).equals("{") && !parts.get(i - 1).matches("c[0-9]+")) {
+                blocks.add(i);
+            }
+        }
+        if (blocks.isEmpty() || random.nextBoolean()) {
+            return filler(1200 - random.nextInt(parts.size())) + String.join(" ", parts);
+        }
+        parts.add(one(blocks) + 1, "throw w;".repeat(30 + random.nextInt(11)));
+        return String.join(" ", parts);
+    }
+
+    private List<String> parts() {
+        return new ArrayList<>(List.of(text().replaceAll("([(){}\\[\\],;]|\\.\\.)", " $1 ").trim().split("\\s+")));
+    }
+
+    /** A class of about so many TOKENS. */
+    private String filler(int tokens) {
+        StringBuilder text = new StringBuilder("class filler{int x;");
+        int left = tokens - 7;
+        for (int i = 0; left > 20; i++) {
+            int statements = Math.min(39, (left - 10) / 12);
+            text.append("member f").append(i).append("(){").append("x=1+1+1+1+1;".repeat(statements));
+            text.append("x=").append("-".repeat(random.nextInt(12))).append("1;}");
+            left -= 10 + 12 * statements;
+        }
+        return text.append("}").toString();
+    }
+
+    private void change(List<String> parts) {
         for (int i = 1 + random.nextInt(3); i > 0 && parts.size() > 1; i--) {
             int at = random.nextInt(parts.size());
             switch (random.nextInt(12)) {
@@ -53,7 +94,6 @@ final class RandomText {
                 default: changeAlike(parts, at); break;
             }
         }
-        return String.join(random.nextBoolean() ? " " : "\n", parts);
     }
 
     /** Puts another NAME for a NAME, another sign for a sign: so that not all FAULTS are SYNTAX. */

@@ -9,6 +9,8 @@ public final class ShrinkTest {
         objects();
         alike();
         model();
+        otherModel();
+        noneTaken();
         check.end();
     }
 
@@ -188,5 +190,78 @@ public final class ShrinkTest {
         check.is("shrink", g.shrink(), 2);
         check.same("the least", Check.row(g), "m0 0.0(9,0,0)");
         check.is("what is beside", g.beside(0, 0), 9);
+    }
+
+    private static final String OF_MODELS = "class a { int x = 1; member m(p in 0 .. 9) { x = p; return p; } } "
+        + "class b { int x = 2; int y = 3; member m(p in 0 .. 9) { y = 5; return 1; } } "
+        + "class c { int z = 4; member m(p in 0 .. 9) { z = 6; throw w; } }";
+
+    private static TrialGarden ofModels(int argument) {
+        TrialGarden g = check.garden(OF_MODELS);
+        g.model(0, 1);
+        g.make(0);
+        g.call(0, 0, argument, 0, 0);
+        check.is("run", g.run(), 6);
+        return g;
+    }
+
+    /** What is told behind shrink() is of the ROW run with the MODELS that stand then. */
+    private static void otherModel() {
+        TrialGarden g = ofModels(0);
+        g.model(0, 0);
+        check.is("the run ahead is told of", g.verdict(), 6);
+        check.is("none breaks alike", g.shrink(), 0);
+        check.is("verdict", g.verdict(), 0);
+        check.is("beside", g.beside(0, 0), 0);
+        check.is("no other CELL", g.beside(0, 1), Long.MIN_VALUE);
+        check.is("cell", g.cell(0, 0), 0);
+        check.is("the ROW stays", g.row(), 2);
+        check.is("it was done", g.told(1, 6), 1);
+        check.is("not bad any more", g.shrink(), -2);
+        g.model(0, 1);
+        check.is("no run since", g.shrink(), -2);
+        check.is("run", g.run(), 6);
+
+        g = ofModels(0);
+        g.model(0, -1);
+        check.is("none breaks alike", g.shrink(), 0);
+        check.is("verdict", g.verdict(), 0);
+        check.is("nothing beside", g.beside(0, 0), Long.MIN_VALUE);
+        check.is("OBJECTS", g.count(3), 1);
+
+        g = ofModels(0);
+        check.is("no st of it begun", g.member(2, 0, 3), 0);
+        g.model(0, 2);
+        check.is("it is least", g.shrink(), 0);
+        check.is("verdict", g.verdict(), 6);
+        check.is("what is beside", g.beside(0, 0), 6);
+        check.same("what it threw", Check.thrown(g), "w");
+        check.is("its st were begun", g.member(2, 0, 3), 2);
+        check.is("still bad", g.shrink(), 0);
+
+        g = ofModels(9);
+        g.model(0, 2);
+        check.is("9, 0", g.shrink(), 1);
+        check.same("the least", Check.row(g), "m0 0.0(0,0,0)");
+        check.is("verdict", g.verdict(), 6);
+        check.is("what is beside", g.beside(0, 0), 6);
+        check.same("what it threw", Check.thrown(g), "w");
+    }
+
+    /** With the same MODELS nothing that is told changes when none is taken. */
+    private static void noneTaken() {
+        TrialGarden g = check.garden("class a { int x; kept x < 3; member m(p in 0 .. 3) throws w; { x = p; throw w; } }");
+        g.make(0);
+        g.call(0, 0, 3, 0, 0);
+        check.is("run", g.run(), 2);
+        check.is("none taken", g.shrink(), 0);
+        check.is("verdict", g.verdict(), 2);
+        check.is("condition", g.condition(3), 3);
+        check.is("its OBJECT", g.condition(1), 0);
+        check.is("cell", g.cell(0, 0), 3);
+        check.same("thrown", Check.thrown(g), "w");
+        check.is("told", g.told(1, 6), 2);
+        check.is("tried", g.tried(), 0);
+        check.is("changed", g.changed(0), -1);
     }
 }
