@@ -696,6 +696,9 @@ public final class TrialGarden {
     /** A class of the text, with all that it has from the classes above it. */
     private static final class Toy {
         static final int FIELDS = 10;
+        /** Fields as a set: bit f is of field f. */
+        static final int NO_FIELDS = 0;
+        static final int ALL_FIELDS = -1;
         static final int CELLS = 24;
         static final int MEMBERS = 12;
         static final int KEPT = 8;
@@ -2822,7 +2825,7 @@ public final class TrialGarden {
             }
             Toy toy = text.toys[run.toyOf[object]];
             int[] cells = run.cells[object];
-            int first = toy.changedCell(run.before, cells, 0);
+            int first = toy.changedCell(run.before, cells, Toy.NO_FIELDS);
             if (first == NONE) {
                 return;
             }
@@ -2830,18 +2833,24 @@ public final class TrialGarden {
                 run.breakAt(NOT_PURE, object, first);
                 return;
             }
+            first = toy.changedCell(run.before, cells, fieldsThatMayChange(lowest));
+            if (first != NONE) {
+                run.breakAt(NOT_ONLY, object, first);
+            }
+        }
+
+        /** The fields that every only of the tellings tells: a CELL of another one breaks at least one of them. */
+        private int fieldsThatMayChange(int lowest) {
+            int fields = Toy.ALL_FIELDS;
             int told = lowest;
             for (int up = 0; up < Text.CLASSES && told != NONE; up++) {
                 int last = lastMark(told);
                 for (int m = text.tellings[told].firstMark; m <= last; m++) {
-                    first = toy.changedCell(run.before, cells, text.markFields[m]);
-                    if (text.markKind[m] == Text.ONLY && first != NONE) {
-                        run.breakAt(NOT_ONLY, object, first);
-                        return;
-                    }
+                    fields &= text.markKind[m] == Text.ONLY ? text.markFields[m] : Toy.ALL_FIELDS;
                 }
                 told = upwards(told);
             }
+            return fields;
         }
 
         private void askGives(Run run, int object, int lowest) {

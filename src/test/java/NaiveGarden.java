@@ -408,10 +408,11 @@ final class NaiveGarden {
         for (int k = 0; k < thing.cells().size() && member.pure; k++) {
             changed(to, 5, object, k, !thing.cells().get(k).equals(old.cells().get(k)));
         }
-        for (NaiveText.Member told = member; told != null; told = told.over) {
-            for (NaiveText.Mark mark : told.marks) {
-                for (int k = 0; k < thing.cells().size() && mark.kind.equals("only"); k++) {
-                    changed(to, 4, object, k, !thing.cells().get(k).equals(old.cells().get(k)) && !mark.fields.contains(thing.names().get(k)));
+        for (int k = 0; k < thing.cells().size(); k++) {
+            for (NaiveText.Member told = member; told != null; told = told.over) {
+                for (NaiveText.Mark mark : told.marks) {
+                    boolean another = mark.kind.equals("only") && !mark.fields.contains(thing.names().get(k));
+                    changed(to, 4, object, k, another && !thing.cells().get(k).equals(old.cells().get(k)));
                 }
             }
         }

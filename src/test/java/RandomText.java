@@ -155,7 +155,7 @@ final class RandomText {
         String name = over == null ? "m" + i + k : over.name;
         int params = over == null ? random.nextInt(4) : over.params;
         boolean pure = over != null && over.pure || chance(25);
-        boolean only = !pure && !toy.fields.isEmpty() && chance(15);
+        boolean only = !pure && !toy.fields.isEmpty() && chance(over == null ? 15 : 40);
         places = new ArrayList<>();
         StringBuilder text = new StringBuilder("member " + name + "(");
         for (int p = 0; p < params; p++) {
@@ -163,7 +163,7 @@ final class RandomText {
             text.append(p == 0 ? "" : ", ").append("p" + p).append(" in ").append(low).append(" .. ").append(low + random.nextInt(5));
             places.add("p" + p);
         }
-        text.append(") ").append(pure ? "pure; " : only ? "only " + one(toy.fields).name + "; " : "");
+        text.append(") ").append(pure ? "pure; " : only ? only() : "");
         Member told = new Member(name, params, pure, i);
         toy.members.removeIf(m -> m == over);
         toy.members.add(told);
@@ -176,6 +176,14 @@ final class RandomText {
         text.append(block(0));
         places = new ArrayList<>();
         return text.toString();
+    }
+
+    private String only() {
+        StringBuilder text = new StringBuilder("only ").append(one(toy.fields).name);
+        for (int n = random.nextInt(3); n > 0; n--) {
+            text.append(", ").append(one(toy.fields).name);
+        }
+        return text.append("; ").toString();
     }
 
     private String mark() {

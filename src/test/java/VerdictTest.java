@@ -156,6 +156,41 @@ public final class VerdictTest {
         g.make(0);
         g.run();
         changed("not of the next run", g, -1, -1);
+        changesAgainstSeveral();
+    }
+
+    /** Several tellings have an only: the first CELL that breaks any of them is told, whichever that is. */
+    private static void changesAgainstSeveral() {
+        String body = "(p in 0 .. 99) %s { if p %% 2 { x = 1; } if p / 2 %% 2 { r[1] = 1; } if p / 4 %% 2 { r[2] = 1; } if p / 8 %% 2 { y = 1; } if p / 16 %% 2 { z = 1; } } ";
+        String text = "class a { int x; int r[3]; int y; int z; member m" + body.formatted("only z, y, r;") + "} "
+            + "class b above a { member m" + body.formatted("only z, x, y; needs 1;") + "} "
+            + "class c above b { int w; member o() { } } "
+            + "class d above c { member m" + body.formatted("") + "} "
+            + "class e above d { member m" + body.formatted("gives 0; only x, r, z;") + "}";
+        // x is CELL 0, r 1 .. 3, y 4, z 5: of each class the fields that all of its tellings tell.
+        String[] free = {"ryz", "yz", "yz", "yz", "z"};
+        String[] fields = {"x", "r", "r", "y", "z"};
+        int[] cells = {0, 2, 3, 4, 5};
+        for (int c = 0; c < free.length; c++) {
+            for (int p = 0; p < 32; p++) {
+                int first = -1;
+                for (int k = fields.length - 1; k >= 0; k--) {
+                    first = (p >> k & 1) == 1 && !free[c].contains(fields[k]) ? cells[k] : first;
+                }
+                TrialGarden g = ran(text, c, 0, p);
+                String what = "only of several, class " + c + " with " + p;
+                verdict(what, g, first >= 0 ? 4 : c == 4 ? 1 : 0);
+                changed(what, g, first >= 0 ? 0 : -1, first);
+            }
+        }
+        TrialGarden g = check.garden(text);
+        g.make(1);
+        g.make(4);
+        g.call(1, 0, 24, 0, 0);
+        g.run();
+        changed("of the second OBJECT, by a telling above", g, 1, 4);
+        verdict("PURE ahead of several", ran("class a { int x; int y; member m(p in 0 .. 9) only y; { x = 1; } } class b above a { member m(p in 0 .. 9) only x; { y = 1; } } "
+            + "class c above b { member m(p in 0 .. 9) pure; { y = 1; } }", 2, 0, 1), 5);
     }
 
     private static void needs() {
