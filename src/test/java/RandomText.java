@@ -26,6 +26,8 @@ final class RandomText {
     private String asking;
     private int budget;
     private boolean keepsPure;
+    /** Hardly anything is THROWN, SPENT or refused in such a text: what comes late among the verdicts is come to. */
+    private boolean calm;
 
     RandomText(Random random) {
         this.random = random;
@@ -33,7 +35,8 @@ final class RandomText {
 
     String text() {
         StringBuilder text = new StringBuilder();
-        int n = 1 + random.nextInt(3);
+        calm = chance(30);
+        int n = 1 + random.nextInt(calm ? 5 : 3);
         for (int i = 0; i < n; i++) {
             text.append(aClass(i));
         }
@@ -126,8 +129,8 @@ final class RandomText {
         asking = null;
         places = new ArrayList<>();
         StringBuilder text = new StringBuilder("class " + toy.name + " ");
-        if (!toys.isEmpty() && chance(60)) {
-            toy.above = one(toys);
+        if (!toys.isEmpty() && chance(calm ? 90 : 60)) {
+            toy.above = calm ? toys.get(toys.size() - 1) : one(toys);
             toy.fields.addAll(toy.above.fields);
             toy.members.addAll(toy.above.members);
             text.append("above ").append(toy.above.name).append(' ');
@@ -151,11 +154,11 @@ final class RandomText {
 
     private String member(int i, int k) {
         List<Member> others = toy.members.stream().filter(m -> m.toy != i).toList();
-        Member over = others.isEmpty() || chance(40) ? null : one(others);
+        Member over = others.isEmpty() || chance(calm ? 15 : 40) ? null : one(others);
         String name = over == null ? "m" + i + k : over.name;
         int params = over == null ? random.nextInt(4) : over.params;
-        boolean pure = over != null && over.pure || chance(25);
-        boolean only = !pure && !toy.fields.isEmpty() && chance(over == null ? 15 : 40);
+        boolean pure = over != null && over.pure || chance(calm ? 10 : 25);
+        boolean only = !pure && !toy.fields.isEmpty() && chance(calm ? 80 : 15);
         places = new ArrayList<>();
         StringBuilder text = new StringBuilder("member " + name + "(");
         for (int p = 0; p < params; p++) {
@@ -167,7 +170,7 @@ final class RandomText {
         Member told = new Member(name, params, pure, i);
         toy.members.removeIf(m -> m == over);
         toy.members.add(told);
-        for (int n = random.nextInt(3); n > 0; n--) {
+        for (int n = random.nextInt(calm ? 2 : 3); n > 0; n--) {
             text.append(mark());
         }
         asking = null;
@@ -180,7 +183,7 @@ final class RandomText {
 
     private String only() {
         StringBuilder text = new StringBuilder("only ").append(one(toy.fields).name);
-        for (int n = random.nextInt(3); n > 0; n--) {
+        for (int n = random.nextInt(5); n > 0; n--) {
             text.append(", ").append(one(toy.fields).name);
         }
         return text.append("; ").toString();
@@ -197,7 +200,7 @@ final class RandomText {
     }
 
     private String condition() {
-        switch (random.nextInt(5)) {
+        switch (random.nextInt(calm ? 3 : 5)) {
             case 0: return ex(1) + " || 1";
             case 1: return ex(1) + " >= -9";
             case 2: return "1";
@@ -218,7 +221,7 @@ final class RandomText {
     }
 
     private String st(int depth) {
-        int which = random.nextInt(100);
+        int which = random.nextInt(calm ? 60 : 100);
         if (which < 12) {
             places.add("l" + places.size());
             return "let " + places.get(places.size() - 1) + " = " + ex(1) + "; ";
@@ -241,7 +244,8 @@ final class RandomText {
     private String assignment() {
         if (!toy.fields.isEmpty() && !keepsPure && chance(70)) {
             Field field = one(toy.fields);
-            return field.name + (field.size > 0 ? "[" + ex(random.nextInt(2)) + "]" : "") + " = " + ex(2) + "; ";
+            String index = calm ? "" + random.nextInt(Math.max(field.size, 1)) : ex(random.nextInt(2));
+            return field.name + (field.size > 0 ? "[" + index + "]" : "") + " = " + ex(2) + "; ";
         }
         return places.isEmpty() ? "return 2; " : one(places) + " = " + ex(2) + "; ";
     }
@@ -271,7 +275,7 @@ final class RandomText {
             case 2:
                 String call = aCall(depth);
                 return call.startsWith("throw") ? leaf() : call;
-            default: return ex(depth - 1) + " " + OPERATORS[random.nextInt(OPERATORS.length)] + " " + ex(depth - 1);
+            default: return ex(depth - 1) + " " + OPERATORS[random.nextInt(OPERATORS.length - (calm ? 2 : 0))] + " " + ex(depth - 1);
         }
     }
 
@@ -279,7 +283,7 @@ final class RandomText {
         int which = random.nextInt(10);
         if (which < 4 && !toy.fields.isEmpty()) {
             Field field = one(toy.fields);
-            String place = field.size == 0 ? field.name : field.name + "[" + (chance(70) || places.isEmpty() ? "" + random.nextInt(field.size + 1) : one(places)) + "]";
+            String place = field.size == 0 ? field.name : field.name + "[" + (calm || chance(70) || places.isEmpty() ? "" + random.nextInt(field.size + (calm ? 0 : 1)) : one(places)) + "]";
             return "gives".equals(asking) && chance(40) ? "old(" + place + ")" : field.size > 0 && chance(15) ? "size(" + field.name + ")" : place;
         }
         if (which < 7 && !places.isEmpty()) {
