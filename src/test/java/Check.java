@@ -2,13 +2,54 @@
 final class Check {
     private int asked = 0;
     private int wrong = 0;
+    private String sentence = "";
+    private int sentences = 0;
+    private int askedAhead = 0;
+
+    /** The answers from here on are asked for this sentence of the document: a boundary, and what is next to it. */
+    void sentence(String told) {
+        endSentence();
+        sentence = told;
+        sentences++;
+        askedAhead = asked;
+    }
+
+    private void endSentence() {
+        if (!sentence.isEmpty() && asked - askedAhead < 2) {
+            tellWrong("a boundary and what is next to it");
+        }
+    }
+
+    private void tellWrong(String what) {
+        wrong++;
+        System.out.println(sentence.isEmpty() ? what : "\"" + sentence + "\": " + what);
+    }
 
     void is(String what, long got, long due) {
         asked++;
         if (got != due) {
-            wrong++;
-            System.out.println(what + " answered " + got + ", due is " + due);
+            tellWrong(what + " answered " + got + ", due is " + due);
         }
+    }
+
+    /** A text has a FAULT of this KIND at this PLACE; with KIND 0, none. */
+    void faultAt(int kind, int place, String text) {
+        TrialGarden g = new TrialGarden();
+        int classes = tell(g, text);
+        String told = text.length() > 300 ? ".." + text.substring(text.length() - 200) : text;
+        is("KIND in " + told, g.fault(0), kind);
+        is("PLACE in " + told, g.fault(1), kind == 0 ? -1 : place);
+        is("NONE or not in " + told, classes == -1 ? 1 : 0, kind == 0 ? 0 : 1);
+    }
+
+    /** The same, with the PLACE told by a ^ ahead of it. */
+    void fault(int kind, String marked) {
+        int place = marked.indexOf('^');
+        faultAt(kind, place, place < 0 ? marked : marked.substring(0, place) + marked.substring(place + 1));
+    }
+
+    void fine(String text) {
+        faultAt(0, -1, text);
     }
 
     /** Puts a text on the tape, alone. */
@@ -52,8 +93,7 @@ final class Check {
     void same(String what, String got, String due) {
         asked++;
         if (!got.equals(due)) {
-            wrong++;
-            System.out.println(what + " answered " + got + ", due is " + due);
+            tellWrong(what + " answered " + got + ", due is " + due);
         }
     }
 
@@ -72,8 +112,40 @@ final class Check {
         return text.toString();
     }
 
+    /** Puts CALLS behind the ROW, told as row() tells them; arguments that are left out are 0. */
+    static void put(TrialGarden garden, String calls) {
+        for (String call : calls.split(" ")) {
+            if (call.startsWith("m")) {
+                garden.make(Integer.parseInt(call.substring(1)));
+                continue;
+            }
+            int[] n = new int[5];
+            String[] parts = call.split("[.(,)]");
+            for (int i = 0; i < parts.length; i++) {
+                n[i] = Integer.parseInt(parts[i]);
+            }
+            garden.call(n[0], n[1], n[2], n[3], n[4]);
+        }
+    }
+
+    /** A new garden in which this ROW of this text was run, with this verdict. */
+    TrialGarden ran(String text, String calls, int verdict) {
+        return ran(garden(text), calls, verdict);
+    }
+
+    /** A ROW put in place of the one that is there, and run. */
+    TrialGarden ran(TrialGarden garden, String calls, int verdict) {
+        garden.clear();
+        put(garden, calls);
+        is("CALLS of " + calls, garden.row(), calls.split(" ").length);
+        is("run() of " + calls, garden.run(), verdict);
+        is("verdict() of " + calls, garden.verdict(), verdict);
+        return garden;
+    }
+
     void end() {
-        System.out.println(asked + " answers asked, " + wrong + " wrong");
+        endSentence();
+        System.out.println((sentences > 0 ? sentences + " sentences, " : "") + asked + " answers asked, " + wrong + " wrong");
         if (wrong > 0) {
             System.exit(1);
         }

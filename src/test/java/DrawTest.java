@@ -1,7 +1,6 @@
 /** Promises 13, 15 and 16: draw(), tried(), cut(). The rows are drawn here once more, as the document says. */
 public final class DrawTest {
     private static final Check check = new Check();
-    private static int x;
 
     public static void main(String[] args) {
         ranges();
@@ -28,42 +27,8 @@ public final class DrawTest {
         check.is("cut()", g.cut(), 0);
     }
 
-    private static int next() {
-        x = 1103515245 * x + 12345;
-        return (x & 0x7fffffff) / 65536;
-    }
-
-    /** Row i of a class whose members have these ranges (low, high for each param). */
     private static String drawn(int c, int seed, int i, int[][] members) {
-        x = seed + 7919 * i;
-        int size = 1 + next() % 10;
-        StringBuilder row = new StringBuilder("m" + c);
-        int objects = 1;
-        for (int k = 1; k < size; k++) {
-            boolean makes = next() % 8 == 0;
-            if (makes && objects < 3) {
-                row.append(" m").append(c);
-                objects++;
-                continue;
-            }
-            int object = next() % objects;
-            int member = next() % members.length;
-            row.append(' ').append(object).append('.').append(member).append('(');
-            for (int p = 0; p < 3; p++) {
-                row.append(p == 0 ? "" : ",").append(2 * p < members[member].length ? argument(members[member][2 * p], members[member][2 * p + 1]) : 0);
-            }
-            row.append(')');
-        }
-        return row.toString();
-    }
-
-    private static long argument(long low, long high) {
-        switch (next() % 4) {
-            case 0: return low;
-            case 1: return high;
-            case 2: return low <= 0 && 0 <= high ? 0 : low;
-            default: return low + next() % (high - low + 1);
-        }
+        return new Drawn().row(c, seed, i, members);
     }
 
     private static void drawnRows() {
@@ -107,8 +72,7 @@ public final class DrawTest {
         TrialGarden g = check.garden("class a { int x = 4; }");
         for (int seed = 0; seed < 40; seed++) {
             g.draw(0, seed, 1);
-            x = seed;
-            int size = 1 + next() % 10;
+            int size = drawn(0, seed, 0, new int[][] {{}}).split(" ").length;
             check.is("MAKES alone", g.row(), Math.min(size, 3));
             check.is("as many OBJECTS", g.count(3), g.row());
             check.is("the last", g.told(g.row() - 1, 1), -1);

@@ -1,7 +1,6 @@
 /** Promises 4 and 5: each KIND of FAULT, at its PLACE (told by a ^ ahead of it), and what is none. */
 public final class FaultTest {
     private static final Check check = new Check();
-    private static final String IN_B = "class a { int x; int r[3]; member m() { } member p(q in 0 .. 1, s in 0 .. 1) pure; { } } class b above a { ";
 
     public static void main(String[] args) {
         syntax();
@@ -18,22 +17,15 @@ public final class FaultTest {
     }
 
     private static void fault(int kind, String marked) {
-        int place = marked.indexOf('^');
-        String text = place < 0 ? marked : marked.substring(0, place) + marked.substring(place + 1);
-        TrialGarden g = new TrialGarden();
-        int classes = Check.tell(g, text);
-        String told = marked.length() > 300 ? ".." + marked.substring(marked.length() - 200) : marked;
-        check.is("KIND in " + told, g.fault(0), kind);
-        check.is("PLACE in " + told, g.fault(1), kind == 0 ? -1 : place);
-        check.is("NONE or not in " + told, classes == -1 ? 1 : 0, kind == 0 ? 0 : 1);
+        check.fault(kind, marked);
     }
 
     private static void fine(String text) {
-        fault(0, text);
+        check.fine(text);
     }
 
     private static String times(int n, String part) {
-        return part.repeat(Math.max(n, 0));
+        return Texts.times(n, part);
     }
 
     private static String balanced(int n, String part) {
@@ -41,7 +33,7 @@ public final class FaultTest {
     }
 
     private static void inMember(int kind, String st) {
-        fault(kind, IN_B + "member k(z in -1 .. 1) { " + st + " } }");
+        fault(kind, Texts.inMember(st));
     }
 
     private static void syntax() {
@@ -251,31 +243,8 @@ public final class FaultTest {
         inMember(0, "r[" + times(40, "(") + "1" + times(40, ")") + "] = 1;");
     }
 
-    /** A text of exactly n TOKENS: its last are those of the tail, which stands in a member. */
     private static String ofTokens(int n, int tailTokens, String tail) {
-        StringBuilder text = new StringBuilder("class a { int x; int r[2]; member z() { } ");
-        int left = n - 18 - tailTokens;
-        int member = 0;
-        while (left > 5 + 240 + 20) {
-            // a member of 240 TOKENS beside its six
-            text.append("member f").append(member).append("() { ").append(times(30, "x = 1 + 1 + 1; ")).append("} ");
-            left -= 246;
-            member++;
-        }
-        text.append("member g() { ");
-        left -= 5;
-        while (left > 16) {
-            text.append("x = 1 + 1 + 1 + 1 + 1; ");
-            left -= 12;
-        }
-        int[] last = {0, 0, 0, 3, 4, 5, 6, 7, 8, 9, 10, 11, 12, 13, 14, 15, 16};
-        left = last[left];
-        while (left > 0) {
-            int st = left >= 8 || left == 4 ? 4 : left == 5 ? 5 : 3;
-            text.append(st == 4 ? "x = 1; " : st == 5 ? "let l = 1; " : "throw w; ");
-            left -= st;
-        }
-        return text + tail;
+        return Texts.ofTokens(n, tailTokens, tail);
     }
 
     private static void tokenRoom() {
