@@ -5,6 +5,8 @@ final class Check {
     private String sentence = "";
     private int sentences = 0;
     private int askedAhead = 0;
+    private TrialGarden used = new TrialGarden();
+    private int usedCalls = 0;
 
     /** The answers from here on are asked for this sentence of the document: a boundary, and what is next to it. */
     void sentence(String told) {
@@ -40,6 +42,16 @@ final class Check {
         is("KIND in " + told, g.fault(0), kind);
         is("PLACE in " + told, g.fault(1), kind == 0 ? -1 : place);
         is("NONE or not in " + told, classes == -1 ? 1 : 0, kind == 0 ? 0 : 1);
+        // A garden that has read other texts, with FAULTS and without, reads this one alike.
+        int calls = 6 + text.length() / 20;
+        usedCalls += calls;
+        if (usedCalls > 512) {
+            used = new TrialGarden();
+            usedCalls = calls;
+        }
+        is("classes() behind others of " + told, tell(used, text), classes);
+        is("KIND behind others in " + told, used.fault(0), kind);
+        is("PLACE behind others in " + told, used.fault(1), kind == 0 ? -1 : place);
     }
 
     /** The same, with the PLACE told by a ^ ahead of it. */

@@ -403,6 +403,19 @@ public final class EdgesOfFaultsTest {
             check.fault(4, two + "member ^o() { } }");
             check.fault(4, two + "member m0() { } member ^o() { } }");
         }
+        String eight = "";
+        for (int c = 0; c < 8; c++) {
+            eight += "class c" + c + (c == 0 ? "" : " above c" + (c - 1)) + " { " + Texts.numbered(12, "member m", "() { return " + (c + 1) + "; } ") + "} ";
+        }
+        check.fault(4, eight.substring(0, eight.length() - 2) + "member ^n() { } }");
+        TrialGarden g = check.garden(eight);
+        for (int c = 0; c < 8; c++) {
+            for (int m = 0; m < 12; m++) {
+                check.is("who tells " + m + " of " + c, g.member(c, m, 0), c);
+            }
+        }
+        check.ran(g, "m7 0.11 0.0", 0);
+        check.is("the last of all", g.told(1, 5), 8);
         check.fine("class a { " + Texts.numbered(12, "member m", "() { } ") + "} class b above a { " + Texts.numbered(12, "member m", "() { } ") + "} class c { " + Texts.numbered(12, "member m", "() { } ") + "}");
     }
 
@@ -475,6 +488,9 @@ public final class EdgesOfFaultsTest {
         check.fine(gives + times(39, "(") + "old(x)" + times(39, ")") + "; { } }");
         check.fault(4, gives + times(40, "(") + "old^(x)" + times(40, ")") + "; { } }");
         check.fine(gives + times(38, "(") + "old(r[0])" + times(38, ")") + "; { } }");
+        check.fine(gives + times(38, "(") + "old(r[0]) + old(r[1]) + old(r[2])" + times(38, ")") + "; { } }");
+        check.fine(gives + times(39, "(") + "old(x) + old(x) + old(x)" + times(39, ")") + "; { } }");
+        check.fault(4, gives + times(39, "(") + "old(x) + old(r^[0])" + times(39, ")") + "; { } }");
         check.fault(4, gives + times(39, "(") + "old(r^[0])" + times(39, ")") + "; { } }");
         check.fault(4, gives + times(40, "(") + "old^(r[0])" + times(40, ")") + "; { } }");
         // the brackets with which a st begins are none of an ex, and each ex begins anew
@@ -518,6 +534,17 @@ public final class EdgesOfFaultsTest {
             inMember(4, some + "let ^h = 1; }");
         }
         check.fine("class a { " + Texts.numbered(10, "int f", "; ") + "member m(p in 0 .. 1, q in 0 .. 1, r in 0 .. 1) { " + Texts.numbered(8, "let l", " = 1; ") + "} member n() { " + Texts.numbered(8, "let l", " = 1; ") + "} }");
+        // Eight LOCALS and three params of each of ten members in one another are their own.
+        StringBuilder lets = new StringBuilder();
+        StringBuilder asked = new StringBuilder();
+        for (int i = 0; i < 8; i++) {
+            lets.append("let l").append(i).append(" = a * 10 + ").append(i).append("; ");
+            asked.append("if l").append(i).append(" != a * 10 + ").append(i).append(" { broken = broken + 1; } ");
+        }
+        TrialGarden g = check.ran("class a { int broken; int done; member deep(a in 0 .. 99, b in 0 .. 99, c in 0 .. 99) { " + lets
+            + "if a > 1 { deep(a - 1, b + 1, c + 2); } if b != 40 - a || c != 60 - 2 * a { broken = 100; } " + asked + "done = done + 1; } }", "m0 0.0(10,30,40)", 0);
+        check.is("all as they were", g.cell(0, 0), 0);
+        check.is("each of them", g.cell(0, 1), 10);
     }
 
     private static void partRoom() {
@@ -567,6 +594,7 @@ public final class EdgesOfFaultsTest {
         check.fault(5, "class a { member m() { let l = 1; return size(^l); } }");
         check.fault(2, "class a { member m() { return size(^m); } }");
         check.fault(1, "class a { int r[1]; kept size(r^[0]); }");
+        check.fault(2, "class a { member m() { return size(^m()); } }");
         TrialGarden g = check.ran("class a { int r[1]; int s[8]; } class b above a { int t[5]; member m() { return size(r) * 100 + size(s) * 10 + size(t); } }", "m1 0.0", 0);
         check.is("what it gives", g.told(1, 5), 185);
     }
@@ -663,6 +691,12 @@ public final class EdgesOfFaultsTest {
                 for (String st : new String[] {"member m() { f%s; }", "member m() { above.f%s; }", "member m() { return 1 + f%s; }", "member m() { return above.f%s; }", "kept f%s;", "member m() gives above.f%s; { }"}) {
                     check.fault(given == has ? 0 : 6, text + st.formatted(call) + " }");
                 }
+                // behind calls that are right, and of a class whose members are told behind others
+                String fine = "f(" + Texts.joined(has, "1", ", ") + ")";
+                String other = "class z { member q() { } member r() { } member s() { } } class y { member e() { } member f(" + params[has] + ") pure; { } ";
+                check.fault(given == has ? 0 : 6, text + "member m() { " + fine + "; return " + fine + "; return " + fine + " + " + fine + "; return f" + call + "; } }");
+                check.fault(given == has ? 0 : 6, other + "member m() { " + fine + "; return " + fine + " + f" + call + "; } }");
+                check.fault(given == has ? 0 : 6, other + "member m() { " + fine + "; f" + call + "; } }");
                 if (given < has) {
                     check.fault(6, text + "member m() { f" + call + " #");
                     check.fault(6, text + "member m() { return f" + call + " #");
@@ -731,6 +765,9 @@ public final class EdgesOfFaultsTest {
             inMember(0, "return -" + call.formatted(times(9, "-") + "1") + ";");
             inMember(7, "return ^-" + call.formatted(times(10, "-") + "1") + ";");
         }
+        // each by its own, whatever was ahead
+        inMember(0, "return p(" + times(10, "-") + "1, 1); return " + times(10, "-") + "p(1, 1); return " + times(10, "-") + "r[1]; return p(1, 1);");
+        inMember(7, "return p(" + times(10, "-") + "1, 1); return ^" + times(11, "-") + "p(1, 1);");
         // a call without arguments, a field, a param, a NUMBER, result, size are 1
         for (String one : new String[] {"m()", "above.m()", "x", "z", "1", "size(r)", "(1)"}) {
             inMember(0, "return " + times(10, "-") + one + ";");

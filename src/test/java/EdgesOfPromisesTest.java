@@ -323,8 +323,12 @@ public final class EdgesOfPromisesTest {
         check.is("since the text", g.member(0, 0, 3), 6);
         Check.tell(g, "class a { #");
         check.is("a FAULT leaves it", g.member(0, 0, 3), 6);
-        Check.tell(g, text);
-        check.is("a text doesn't", g.member(0, 0, 3), 0);
+        for (int i = 0; i < 3; i++) {
+            Check.tell(g, text);
+            check.is("a text doesn't", g.member(0, 0, 3), 0);
+            check.ran(g, "m0 0.0(2)", 0);
+            check.is("begun since", g.member(0, 0, 3), 3);
+        }
     }
 
     private static void model() {

@@ -9,6 +9,7 @@ public final class EdgesOfRowsTest {
         keptOfMake();
         needs();
         needsUpwards();
+        eightTellings();
         verdictOrder();
         spent();
         thrown();
@@ -117,6 +118,13 @@ public final class EdgesOfRowsTest {
         check.is("it was not called", g.cell(0, 0), 0);
         check.is("no condition broke", g.condition(0), -1);
         check.is("nothing behind is begun", g.member(0, 0, 3), 0);
+        // those of another member are not asked
+        g = check.garden("class a { member e() needs 0; gives 0; { } member m() pure; { } member n() needs 0; gives 0; throws w when 0; { } member o() { throw w; } member p() throws w; { throw w; } }");
+        check.ran(g, "m0 0.1", 0);
+        check.ran(g, "m0 0.0", -1);
+        check.ran(g, "m0 0.2", -1);
+        check.ran(g, "m0 0.3", 3);
+        check.ran(g, "m0 0.4", 0);
     }
 
     private static void needsUpwards() {
@@ -140,6 +148,27 @@ public final class EdgesOfRowsTest {
         check.ran("class a { member m() needs 1 / 0; { } } class b above a { member m() needs 0; { } }", "m1 0.0", 7);
         check.ran("class a { member m() needs 1; { } } class b above a { member m() needs 1 / 0; { } }", "m1 0.0", 7);
         check.ran("class a { member m() { } } class b above a { member m() needs 1 / 0; { } }", "m1 0.0", 7);
+    }
+
+    /** Eight classes, each above the next, that all tell m: the one of the uppermost is asked of an OBJECT of the lowest. */
+    private static void eightTellings() {
+        check.sentence("tellings, from the object's class upwards (of 8 classes)");
+        String[] upper = {"needs p == 3;", "needs 1; throws w when p == 3;", "needs 1; only x;", "needs 1; gives p != 3;", "needs 1;"};
+        String[] lower = {"needs 0;", "needs 1;", "needs 1;", "needs 1;", "needs 1;"};
+        String[] body = {"", "throw w;", "if p == 3 { y = 1; }", "", "if p == 3 { z = 1; }"};
+        int[][] due = {{-1, 0}, {3, 0}, {0, 4}, {0, 1}, {0, 2}};
+        for (int i = 0; i < upper.length; i++) {
+            for (int classes = 7; classes <= 8; classes++) {
+                StringBuilder text = new StringBuilder("class c0 { int x; int y; int z; kept z == 0; member m(p in 0 .. 9) " + upper[i] + " { } } ");
+                for (int c = 1; c < classes; c++) {
+                    text.append("class c").append(c).append(" above c").append(c - 1).append(" { member m(p in 0 .. 9) ").append(lower[i]).append(" { ").append(body[i]).append(" } } ");
+                }
+                TrialGarden g = check.garden(text.toString());
+                for (int p = 2; p <= 4; p++) {
+                    check.ran(g, "m" + (classes - 1) + " 0.0(" + p + ")", due[i][p == 3 ? 1 : 0]);
+                }
+            }
+        }
     }
 
     /** Bits of p: 1 SPENT, 2 THROWN untold, 4 a CELL of y, 8 gives doesn't hold, 16 kept doesn't, 32 the MODEL differs. */

@@ -232,6 +232,9 @@ public final class EdgesOfRunningTest {
         check.is("one with return", done("if x == 3 { return 5; } x = 9;").told(1, 5), 5);
         TrialGarden g = check.ran("class a { member f() { } member g() { return 7 + f(); } }", "m0 0.1", 0);
         check.is("in an ex", g.told(1, 5), 7);
+        g = check.ran("class a { int x; member f() { x = 5; let l = 6; } member g() { return 7 + f() + f(); } }", "m0 0.1 0.1", 0);
+        check.is("whatever was worked out in it", g.told(1, 5), 7);
+        check.is("and again", g.told(2, 5), 7);
     }
 
     private static void dynamicCalls() {
@@ -257,6 +260,13 @@ public final class EdgesOfRunningTest {
                 check.is("member " + m + " of " + c, check.ran(text, "m" + c + " 0." + m, 0).told(1, 5), due[c][m]);
             }
         }
+        // by a st too
+        text = "class a { int x; member f(p in 0 .. 9) { x = x * 10 + p; } } class b above a { member f(p in 0 .. 9) { above.f(p); above.f(1); } } "
+            + "class c above b { member g(p in 0 .. 9) { above.f(p); } member f(p in 0 .. 9) { g(p); above.f(2); } }";
+        int[] cells = {3, 31, 3121};
+        for (int c = 0; c < 3; c++) {
+            check.is("f of " + c, check.ran(text, "m" + c + " 0.0(3)", 0).cell(0, 0), cells[c]);
+        }
     }
 
     private static void returnEnds() {
@@ -281,6 +291,13 @@ public final class EdgesOfRunningTest {
         TrialGarden g = check.ran(text, "m0 0.1", 0);
         check.is("through an ex", g.cell(0, 0), 3);
         check.is("gave", g.told(1, 5), 0);
+        // Nothing of what it went out through is left, however often.
+        g = check.garden("class a { member t() throws zero; { return 1 + (2 + (3 + (4 + (5 + (6 + (7 + 1 / 0)))))); } member f() { return 1 + (2 + (3 + (4 + (5 + (6 + (7 + 8)))))); } }");
+        for (int i = 0; i < 40; i++) {
+            check.is("draw()", g.draw(0, i, 100), 0);
+        }
+        check.ran(g, "m0 0.0 0.1", 0);
+        check.is("it gives", g.told(2, 5), 36);
     }
 
     /** 283 STEPS, and as many st as are wanted. */

@@ -244,8 +244,20 @@ public final class EdgesOfTellingTest {
         g.clear();
         Check.put(g, "m0 0.0(2)");
         check.is("another in its place", g.told(1, 5), 0);
+        check.is("a MAKE in another's place", g.told(0, 6), 0);
         g = check.ran("class a { member m() { while 1 { } return 9; } }", "m0 0.0", 8);
         check.is("SPENT", g.told(1, 5), 0);
+        // the latest run, though the ROW is the same: with another MODEL it breaks earlier
+        g = check.garden("class a { member m() { return 7; } } class b { member m() { return 8; } }");
+        check.ran(g, "m0 0.0 m1 0.0", 0);
+        g.model(0, 1);
+        check.is("run()", g.run(), 6);
+        int[][] both = {{0, 7, 0, 0}, {1, 1, 0, 0}};
+        for (int i = 0; i < 4; i++) {
+            check.is("gave " + i, g.told(i, 5), both[0][i]);
+            check.is("done " + i, g.told(i, 6), both[1][i]);
+        }
+        check.is("OBJECTS", g.count(3), 1);
     }
 
     private static void toldDone() {

@@ -162,6 +162,9 @@ public final class EdgesOfTextsTest {
         check.fine("class a { int x; kept x; member m() { } }");
         check.fine("class a { } class b above a { int x; int y; kept x; kept y; member m() { } member n() { } }");
         check.fault(1, "class a { } class b above a ^above a { }");
+        check.fault(1, "class a { } class b above ^{ }");
+        check.fault(1, "class a { } class b above ^5 { }");
+        check.fault(1, "class a { } class b above ^int { }");
         check.fault(1, "class a { kept 1; ^int x; }");
         check.fault(1, "class a { member m() { } ^int x; }");
         check.fault(1, "class a { member m() { } ^kept 1; }");
@@ -263,6 +266,10 @@ public final class EdgesOfTextsTest {
         inMember(1, "^(m());");
         inMember(1, "above^;");
         inMember(1, "above.m ^= 1;");
+        inMember(1, "above.^5();");
+        inMember(1, "above.^let();");
+        inMember(1, "return above.m ^1;");
+        inMember(1, "return above.^5();");
     }
 
     private static void exGrammar() {

@@ -84,6 +84,24 @@ public final class EdgesOfTryingTest {
             }
         }
         check.is("some at the first row, some behind", first > 0 && first < 40 ? 1 : 0, 1);
+        // Each verdict is bad; what is CUT is not.
+        for (int verdict = -1; verdict <= 8; verdict++) {
+            g = verdicts(verdict);
+            check.is("draw() with " + verdict, g.draw(0, 1, 100), Math.max(verdict, 0));
+            check.is("all() with " + verdict, g.all(0, 2), Math.max(verdict, 0));
+            check.is("tried()", g.tried(), verdict > 0 ? 2 : 3);
+            check.is("verdict()", g.verdict(), Math.max(verdict, 0));
+            check.is("shrink() with " + verdict, g.shrink(), verdict > 0 ? 0 : -2);
+        }
+    }
+
+    /** A class whose one member has this verdict whenever it is called, with a MODEL. */
+    private static TrialGarden verdicts(int verdict) {
+        String[] members = {"member m() needs 0; { }", "member m() { }", "member m() gives 0; { }", "member m() { x = 1; }", "member m() { throw w; }", "member m() only y; { x = 5; }", "member m() pure; { x = 5; }",
+            "member m() { return 1; }", "member m() gives 1 / 0; { }", "member m() { while 1 { } }"};
+        TrialGarden g = check.garden("class a { int x; int y; kept x != 1; " + members[verdict + 1] + " } class b { member m() { return 0; } }");
+        g.model(0, 1);
+        return g;
     }
 
     private static void drawLast() {
@@ -97,6 +115,12 @@ public final class EdgesOfTryingTest {
             check.same("the last of " + n, Check.row(g), row);
             check.is("told of, CUT or not", g.verdict(), row.contains("(0,") ? -1 : 0);
             seen |= row.contains("(0,") ? 1 : 2;
+            boolean gone = false;
+            for (int k = 0; k < g.row(); k++) {
+                gone |= g.told(k, 1) == 0 && g.told(k, 2) == 0;
+                check.is("done", g.told(k, 6), gone ? 0 : 1);
+                check.is("gave", g.told(k, 5), gone || g.told(k, 1) < 0 ? 0 : 7);
+            }
         }
         check.is("both", seen, 3);
     }
@@ -360,7 +384,22 @@ public final class EdgesOfTryingTest {
     private static void allArguments() {
         check.sentence("14: of each of these: low, 0 (if it lies between), high (if it is not the low one)");
         int[][] ranges = {{-1, 1}, {-9, 9}, {-1, 0}, {0, 1}, {0, 0}, {1, 2}, {-2, -1}, {1, 1}, {-1, -1}, {-999999999, 999999999}, {-999999999, 0}, {0, 999999999}};
+        TrialGarden same = new TrialGarden();
         for (int[] range : ranges) {
+            // in one garden, with and without params in turn: arguments that a member doesn't have are 0
+            for (int turn = 0; turn < 2; turn++) {
+                Check.tell(same, "class a { member f(p in " + range[0] + " .. " + range[1] + ", q in 5 .. 5, r in -5 .. -5) { } }");
+            }
+            for (int turn = 0; turn < 2; turn++) {
+                Check.tell(same, "class a { member f() { } }");
+                check.is("all()", same.all(0, 3), 0);
+                check.is("rows", same.tried(), 8);
+                check.ran(same, "m0 0.0", 0);
+                check.is("all()", same.all(0, 2), 0);
+                Check.tell(same, "class a { member f() gives 0; { } }");
+                check.is("all()", same.all(0, 2), 1);
+                check.same("without params", Check.row(same), "m0 0.0(0,0,0)");
+            }
             int[] numbers = numbers(range[0], range[1]);
             for (int i = 0; i <= numbers.length; i++) {
                 String number = i < numbers.length ? String.valueOf(numbers[i]) : "p + 1";
@@ -455,9 +494,11 @@ public final class EdgesOfTryingTest {
                 }
                 due += isCut ? 1 : 0;
             }
-            check.is("draw()", g.draw(0, 5, 100), 0);
-            check.is("cut()", g.cut(), due);
-            check.is("tried()", g.tried(), 100);
+            for (int turn = 0; turn < 2; turn++) {
+                check.is("draw()", g.draw(0, 5, 100), 0);
+                check.is("cut()", g.cut(), due);
+                check.is("tried()", g.tried(), 100);
+            }
             check.ran(g, "m0 0.0(0)", -1);
             check.is("run() is none", g.cut(), due);
             check.is("all()", g.all(0, 2), 0);
@@ -525,6 +566,10 @@ public final class EdgesOfTryingTest {
         shrunk(text, "m0 0.0 0.1 0.0", 2, 1, "m0 0.0(0,0,0) 0.0(0,0,0)");
         shrunk(text, "m0 0.1 0.0 0.1 0.0 0.1 0.0 0.1", 2, 5, "m0 0.0(0,0,0) 0.0(0,0,0)");
         shrunk(text, "m0 0.1 0.1 0.1 0.1 0.1 0.1 0.1 0.0 0.0", 2, 7, "m0 0.0(0,0,0) 0.0(0,0,0)");
+        // What stays is as it was; the last of ten is looked at, up to the half of its third argument.
+        shrunk("class a { int y; kept y == 0; member m(p in 0 .. 9, q in 0 .. 9, r in 0 .. 9) { if p == 1 && q == 2 && r == 3 { y = 1; } } member n() { } }", "m0 0.1 0.0(1,2,3) 0.1", 2, 2, "m0 0.0(1,2,3)");
+        shrunk("class a { int x; int y; kept y == 0; member m(p in 0 .. 9, q in 0 .. 9, r in 0 .. 9) { x = x + 1; if x == 9 && r > 3 { y = 1; } } }",
+            "m0 0.0 0.0 0.0 0.0 0.0 0.0 0.0 0.0 0.0(0,0,9)", 2, 1, "m0" + Texts.times(8, " 0.0(0,0,0)") + " 0.0(0,0,4)");
         shrunk("class a { kept 0; }", "m0", 2, 0, "m0");
         shrunk("class a { int x; kept x; }", "m0", 2, 0, "m0");
         // The first that breaks: of two that may go, the first goes.
@@ -551,6 +596,11 @@ public final class EdgesOfTryingTest {
         check.is("its members", g.call(1, 0, 0, 0, 0), 6);
         shrunk("class a { kept 1; } class b { kept 0; }", "m0 m0 m1", 2, 2, "m1");
         shrunk("class a { kept 1; } class b { kept 0; }", "m0 m1 m0", 2, 2, "m1");
+        // OBJECTS of two classes stay so when an argument is made less.
+        g = shrunk("class a { member e() { } member m(p in 5 .. 9) { } } class b { int x; kept x < 3; member m(p in 0 .. 90) { x = p; } }", "m1 m0 1.1(9) 0.0(80)", 2, 5, "m1 0.0(5,0,0)");
+        check.is("a CALL within its range", g.call(0, 0, 90, 0, 0), 3);
+        check.is("none of the other class", g.call(0, 1, 5, 0, 0), -2);
+        check.is("none on another OBJECT", g.call(1, 0, 0, 0, 0), -2);
     }
 
     private static void shrinkFirst() {
@@ -662,5 +712,26 @@ public final class EdgesOfTryingTest {
         check.is("shrink()", g.shrink(), 1);
         check.same("its ROW", Check.row(g), "m0 0.0(4,0,0) 0.0(9,0,0)");
         check.is("run() again", g.run(), 2);
+        // It is told of as it is run with the MODELS that stand then, also when none is taken.
+        String text = "class a { int x = 1; member m(p in 0 .. 9) { x = p; return p; } } class b { int x = 2; member m(p in 0 .. 9) { x = 5; return 1; } } class c { int z = 4; member m(p in 0 .. 9) { z = 6; throw w; } }";
+        int[] verdicts = {0, 0, 6, 6};
+        long[] beside = {Long.MIN_VALUE, 0, 5, 6};
+        for (int model = -1; model <= 2; model++) {
+            for (int p = 0; p <= 9; p += 9) {
+                g = check.garden(text);
+                g.model(0, 1);
+                check.ran(g, "m0 0.0(" + p + ")", 6);
+                g.model(0, model);
+                int less = model > 0 && p > 0 ? 1 : 0;
+                check.is("shrink()", g.shrink(), less);
+                check.same("the ROW", Check.row(g), "m0 0.0(" + (less > 0 ? 0 : p) + ",0,0)");
+                check.is("verdict()", g.verdict(), verdicts[model + 1]);
+                check.is("cell()", g.cell(0, 0), less > 0 ? 0 : p);
+                check.is("beside()", g.beside(0, 0), model == 0 ? p : beside[model + 1]);
+                check.same("thrown()", Check.thrown(g), model == 2 ? "w" : "");
+                check.is("told()", g.told(1, 6), 1);
+                check.is("shrink() again", g.shrink(), verdicts[model + 1] > 0 ? 0 : -2);
+            }
+        }
     }
 }
