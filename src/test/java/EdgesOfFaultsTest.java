@@ -412,6 +412,7 @@ public final class EdgesOfFaultsTest {
         for (int c = 0; c < 8; c++) {
             for (int m = 0; m < 12; m++) {
                 check.is("who tells " + m + " of " + c, g.member(c, m, 0), c);
+                check.is("where", g.member(c, m, 5), eight.indexOf("m" + m + "(", eight.indexOf("class c" + c)));
             }
         }
         check.ran(g, "m7 0.11 0.0", 0);

@@ -323,6 +323,19 @@ public final class EdgesOfPromisesTest {
         check.is("since the text", g.member(0, 0, 3), 6);
         Check.tell(g, "class a { #");
         check.is("a FAULT leaves it", g.member(0, 0, 3), 6);
+        // each member's own, of the first, the last and one between
+        TrialGarden three = check.garden("class a { member f() { return 1; return 2; } member g() { return 1; return 2; return 3; } member h() { return 1; } } class b above a { member g() { return 4; } }");
+        int[] none = {0, 0, 0};
+        for (int m = 2; m >= 0; m--) {
+            check.ran(three, "m0 0." + m, 0);
+            none[m] = 1;
+            for (int k = 0; k < 3; k++) {
+                check.is("begun of " + k, three.member(0, k, 3), none[k]);
+                check.is("begun for the class below", three.member(1, k, 3), k == 1 ? 0 : none[k]);
+            }
+        }
+        check.ran(three, "m1 0.1", 0);
+        check.is("the one below", three.member(1, 1, 3), 1);
         for (int i = 0; i < 3; i++) {
             Check.tell(g, text);
             check.is("a text doesn't", g.member(0, 0, 3), 0);

@@ -292,7 +292,7 @@ public final class EdgesOfRunningTest {
         check.is("through an ex", g.cell(0, 0), 3);
         check.is("gave", g.told(1, 5), 0);
         // Nothing of what it went out through is left, however often.
-        g = check.garden("class a { member t() throws zero; { return 1 + (2 + (3 + (4 + (5 + (6 + (7 + 1 / 0)))))); } member f() { return 1 + (2 + (3 + (4 + (5 + (6 + (7 + 8)))))); } }");
+        g = check.garden("class a { member t() throws zero; gives 0; { return 1 + (2 + (3 + (4 + (5 + (6 + (7 + 1 / 0)))))); } member f() gives result == 36; { return 1 + (2 + (3 + (4 + (5 + (6 + (7 + 8)))))); } }");
         for (int i = 0; i < 40; i++) {
             check.is("draw()", g.draw(0, i, 100), 0);
         }

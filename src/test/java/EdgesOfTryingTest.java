@@ -618,6 +618,15 @@ public final class EdgesOfTryingTest {
                 shrunk(text, "m0 0.0(" + number + "," + number + "," + number + ")", 2, 3 * taken, least);
             }
         }
+        // An argument that the member doesn't have is none, though one of another text stood there.
+        TrialGarden g = new TrialGarden();
+        for (int turn = 0; turn < 4; turn++) {
+            boolean with = turn < 2;
+            Check.tell(g, "class a { int x; kept x == 0; member m(" + (with ? "p in 5 .. 6, q in 5 .. 6, r in 5 .. 6" : "") + ") { x = 1; } }");
+            check.ran(g, with ? "m0 0.0(6,6,6)" : "m0 0.0", 2);
+            check.is("shrink()", g.shrink(), with ? 3 : 0);
+            check.same("the least", Check.row(g), with ? "m0 0.0(5,5,5)" : "m0 0.0(0,0,0)");
+        }
     }
 
     private static void shrinkHalf() {
