@@ -810,6 +810,12 @@ public final class EdgesOfFaultsTest {
             check.fault(7, "class a { int r[2]; member m() gives ^old(r[" + times(10, "-") + "1]) " + wrong);
             check.fault(7, "class a { int r[2]; member m() gives old(^r[" + times(11, "-") + "1] " + wrong);
         }
+        // It goes ahead of ARGUMENTS at the TOKEN behind.
+        for (String call : new String[] {"p", "above.p", "return p", "return above.p"}) {
+            inMember(7, call + "(^" + times(12, "-") + "1);");
+            inMember(7, call + "(1, ^" + times(12, "-") + "1, 1);");
+            inMember(6, call + "(" + times(11, "-") + "1^);");
+        }
         // It is not whole while one that binds faster may come, or its right side is wrong.
         inMember(1, "return 1" + times(11, " + 1") + " + ^;");
         inMember(2, "return 1" + times(11, " + 1") + " + ^yy;");

@@ -29,6 +29,7 @@ public final class EdgesOfPromisesTest {
         callArguments();
         callFull();
         run();
+        refused();
         check.end();
     }
 
@@ -480,6 +481,36 @@ public final class EdgesOfPromisesTest {
         check.is("nothing came", g.told(10, 0), -1);
         check.is("run()", g.run(), 0);
         check.is("clear()", g.clear(), 10);
+    }
+
+    /** What is refused leaves all as it was: in a new object, with a text, with a full ROW, behind each verdict. */
+    private static void refused() {
+        check.sentence("NONE: There is none. RANGE: A number that can't be. FULL: No room.");
+        for (int verdict = -4; verdict <= 8; verdict++) {
+            TrialGarden g = new TrialGarden();
+            if (verdict == -3) {
+                Check.tell(g, "class a { member m(p in 0 .. 1) { } }");
+            } else if (verdict == -2) {
+                Check.tell(g, "class a { member m(p in 0 .. 1) { } }");
+                Check.put(g, "m0 m0 m0 0.0 0.0 0.0 0.0 0.0 0.0 0.0");
+                check.is("the 11th CALL", g.call(0, 0, 0, 0, 0), -3);
+                check.is("the 4th OBJECT", g.make(0), -3);
+            } else if (verdict >= -1) {
+                bad(g, verdict);
+            }
+            Check.onTape(g, "class");
+            String ahead = state(g);
+            int[] due = {-1, -1, -2, -2, -2, -2, -2, -2, -2, -2, -2, -2, -2, -2};
+            int[] got = {g.end(6), g.end(-1), g.model(-1, 0), g.model(9, -1), g.model(0, 9), g.make(-1), g.make(9), g.call(3, 0, 0, 0, 0), g.call(-1, 0, 0, 0, 0), g.call(0, 12, 0, 0, 0), g.draw(0, 1, 0),
+                g.draw(-1, 1, 1), g.all(0, 5), g.all(9, 1)};
+            for (int i = 0; i < due.length; i++) {
+                check.is("refused call " + i, got[i], due[i]);
+            }
+            check.is("run() of none", g.row() == 0 ? g.run() : -2, -2);
+            check.is("shrink() of what is not bad", g.verdict() <= 0 ? g.shrink() : -2, -2);
+            check.same("all stays", state(g), ahead);
+            check.is("the tape too", g.count(1), 5);
+        }
     }
 
     private static void run() {

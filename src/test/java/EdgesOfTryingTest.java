@@ -369,6 +369,21 @@ public final class EdgesOfTryingTest {
             check.is("its number", g.tried(), one.getValue() + 1);
         }
         check.is("rows of CALLS on one OBJECT", first.size(), 8 + 64);
+        // Rows of other classes, drawn or one's own, that were there ahead change nothing.
+        TrialGarden g = check.garden("class a { member f(p in -1 .. 1, q in 0 .. 1) { } member g(p in 3 .. 3) { } member k() { } } class b { member f() { } } class c { member e() { } member f() { } member g(p in 0 .. 9, q in -9 .. 9, r in 1 .. 2) { } }");
+        for (int c = 0; c < 3; c++) {
+            for (int other = 0; other < 3; other++) {
+                for (int seed = 0; seed < 3; seed++) {
+                    g.draw(other, seed, 50);
+                    check.is("all()", g.all(c, 3), 0);
+                    int calls = c == 0 ? 8 : c == 1 ? 1 : 2 + 12;
+                    check.is("tried()", g.tried(), (calls + 1) * (calls + 3));
+                    check.ran(g, "m" + other + " m" + (other + seed) % 3 + " m" + other, 0);
+                    check.is("all()", g.all(c, 3), 0);
+                    check.is("tried()", g.tried(), (calls + 1) * (calls + 3));
+                }
+            }
+        }
     }
 
     private static int called(int h, String call) {
