@@ -15,6 +15,7 @@ public final class NaiveTest {
             RandomText maker = new RandomText(random);
             compare(random, random.nextInt(3) > 0 ? maker.text() : maker.changed());
             compareFaults(new RandomText(random).crowded());
+            compareFaults(new RandomText(random).deep());
         }
         System.out.println("verdicts from -1 on " + java.util.Arrays.toString(verdicts) + ", FAULTS " + java.util.Arrays.toString(faults));
         check.end();

@@ -2,7 +2,7 @@ import java.util.ArrayList;
 import java.util.List;
 import java.util.Random;
 
-/** Texts that are mostly without a FAULT, texts with some TOKENS changed, and texts for which there is no ROOM. */
+/** Texts that are mostly without a FAULT, texts with some TOKENS changed, texts for which there is no ROOM, and high ones. */
 final class RandomText {
     private static final String[] OPERATORS = {"||", "&&", "==", "!=", "<", "<=", ">", ">=", "+", "+", "-", "-", "*", "/", "%"};
     private static final String[] OTHERS = ("class above int kept member in needs gives throws when only pure let if else while return throw old result size "
@@ -290,5 +290,48 @@ final class RandomText {
             return one(places);
         }
         return which == 7 && "gives".equals(asking) ? "result" : "" + random.nextInt(5);
+    }
+
+    /** A text with an ex about as high as may be, or with about as many things open, in which something may be wrong. */
+    String deep() {
+        String above = "class z { int x; int r[3]; member m() pure; { } member p(q in 0 .. 1) pure; { } member t(a in 0 .. 1, b in 0 .. 1, c in 0 .. 1) pure; { } member i(q in 0 .. 1) { } } class a above z { ";
+        switch (random.nextInt(8)) {
+            case 0: return above + "kept " + deepEx("kept") + "; }";
+            case 1: return above + "member k() needs " + deepEx("needs") + "; { } }";
+            case 2: case 3: return above + "member k(v in 0 .. 1) gives " + deepEx("gives") + "; gives " + deepEx("gives") + "; { } }";
+            case 4: return above + "member k() { x = " + deepEx(null) + "; return " + deepEx(null) + "; } }";
+            case 5: return above + "member k() { r[" + deepEx(null) + "] = " + deepEx(null) + "; } }";
+            case 6: return above + "member k() { " + (chance(50) ? "above." : "") + "t(" + deepEx(null) + ", 1, " + deepEx(null) + "); } }";
+            default: return above + "member k() { if " + deepEx(null) + " { } while " + deepEx(null) + " { } let l = " + deepEx(null) + "; } }";
+        }
+    }
+
+    private String deepEx(String inMark) {
+        asking = inMark;
+        int brackets = chance(25) ? 25 + random.nextInt(17) : 0;
+        String inner = high(8 + random.nextInt(5) + (chance(20) ? 1 : 0));
+        return "(".repeat(brackets) + inner + ")".repeat(brackets);
+    }
+
+    private String high(int height) {
+        if (chance(1) && chance(50)) {
+            return new String[] {"yy", "r", "x[0]", "i(1)", "i()", "p()", "p(1, 1)", "m(1)", "t(1, 1)", "above.yy()", "size(x)", "1 1", "()"}[random.nextInt(13)];
+        }
+        if (height <= 1) {
+            String[] leaves = {"1", "x", "m()", "above.m()", "size(r)", "0", "result", "old(x)"};
+            return leaves[random.nextInt("gives".equals(asking) ? 8 : 6)];
+        }
+        int less = 1 + random.nextInt(Math.min(height - 1, 4));
+        switch (random.nextInt("gives".equals(asking) && height > 2 ? 11 : 10)) {
+            case 0: case 1: return (chance(50) ? "-" : "!") + high(height - 1);
+            case 2: return "r[" + high(height - 1) + "]";
+            case 3: return (chance(30) ? "above." : "") + "p(" + high(height - 1) + ")";
+            case 4: return "t(" + high(less) + ", " + high(height - 1) + ", " + high(less) + ")";
+            case 5: return "(" + high(height) + ")";
+            case 6: return "(" + high(height - 1) + ") " + OPERATORS[random.nextInt(OPERATORS.length)] + " " + high(1);
+            case 7: return high(1) + " " + OPERATORS[random.nextInt(OPERATORS.length)] + " (" + high(height - 1) + ")";
+            case 8: case 9: return high(height - 1) + " " + OPERATORS[random.nextInt(OPERATORS.length)] + " " + high(less);
+            default: return "old(r[" + high(height - 2) + "])";
+        }
     }
 }
